@@ -607,7 +607,7 @@ public final class ProcedureCode {
 
         /** What a node says; once the run is raised, nothing more is done. */
         private long walk(Storage s, int n, int depth) {
-            if (depth > MAX_NODES || s.raise != 0) {
+            if (depth > MAX_NODES || !has(n) || s.raise != 0) {
                 return 0;
             }
             // A folded node can share its parts so often that to walk them would never end.

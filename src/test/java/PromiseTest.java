@@ -549,6 +549,18 @@ public final class PromiseTest {
         due("1005", bytes(x, false, 0, 4), "0 0 3 -19");
     }
 
+    /** As many steps as a run can need: a long node, as often as can be counted. */
+    private static void longest() {
+        promise = "6, the longest run";
+        ProcedureCode x = new ProcedureCode();
+        node399(x);
+        int body = x.node(3, 8, 7);
+        int loop = timesOf(x, 999, body);
+        due("rows of the loop", x.make(loop), 387);
+        due("the longest run", both(x, x.node(11, loop, x.node(9, 0, number(x, 7)))), 1);
+        due("what stands behind its loop", x.at(true, 0), 55);
+    }
+
     /** Every node deeper than the one before: the deepest trees that 200 nodes can be. */
     private static void deepTrees() {
         promise = "6, depth";
@@ -579,6 +591,31 @@ public final class PromiseTest {
         }
         due("132 loops within one another", both(x, node), 1);
         due("stored within all", x.at(true, 0), 49);
+    }
+
+    /** The deepest values must come out of the deepest trees, not only end. */
+    private static void deepValues() {
+        promise = "6, depth of values";
+        ProcedureCode x = new ProcedureCode();
+        x.cell(2, 9, 0);
+        x.cell(0, 3, 4);
+        x.put(3, (byte) 1);
+        int cell = x.node(1, 0, 0);
+        int sum = cell;
+        while (sum < 199) {
+            sum = x.node(3, cell, sum);
+        }
+        due("199 ones, the last first", both(x, x.node(9, 1, sum)), 1);
+        due("199", bytes(x, false, 4, 3), "49 57 57");
+        x = new ProcedureCode();
+        x.cell(0, 1, 0);
+        int one = number(x, 1);
+        int inner = x.node(9, 0, one);
+        while (inner < 200) {
+            inner = x.node(12, one, inner);
+        }
+        due("a storing within 198 conditions", both(x, inner), 1);
+        due("stored", x.at(false, 0), 49);
     }
 
     private static void atAndPut() {
@@ -778,7 +815,9 @@ public final class PromiseTest {
         subscripts();
         raising();
         counting();
+        longest();
         deepTrees();
+        deepValues();
         atAndPut();
         fastRows();
         points();
