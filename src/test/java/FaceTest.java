@@ -50,27 +50,21 @@ public final class FaceTest {
     }
 
     public static void main(String[] args) {
-        int wrong = 0;
-        Set<String> found = openMembers();
-        if (!found.equals(new TreeSet<>(FACE))) {
-            wrong++;
-            System.out.println("the face is " + found + ", due is " + new TreeSet<>(FACE));
-        }
-        if (ProcedureCode.class.getModifiers() != (Modifier.PUBLIC | Modifier.FINAL)) {
-            wrong++;
-            System.out.println("the class is " + Modifier.toString(ProcedureCode.class.getModifiers()));
-        }
+        Due.sentence("the public face, and no other member that is not private");
+        Due.is("the members", openMembers().toString(), new TreeSet<>(FACE).toString());
+        Due.is("the class", Modifier.toString(ProcedureCode.class.getModifiers()), "public final");
+        Due.sentence("no private method bears the name of a public one");
         for (Class<?> inner : ProcedureCode.class.getDeclaredClasses()) {
             for (Method m : inner.getDeclaredMethods()) {
-                if (NAMES.contains(m.getName())) {
-                    wrong++;
-                    System.out.println(m + " bears the name of a public method");
-                }
+                Due.is(m + " bears the name of a public method", NAMES.contains(m.getName()), false);
             }
         }
-        System.out.println(wrong == 0 ? "the face is as due" : "the face is not as due");
-        if (wrong != 0) {
-            System.exit(1);
+        Due.sentence("classes inside are static, and not public");
+        for (Class<?> inner : ProcedureCode.class.getDeclaredClasses()) {
+            int modifiers = inner.getModifiers();
+            Due.is(inner + " is static", Modifier.isStatic(modifiers), true);
+            Due.is(inner + " is public or protected", Modifier.isPublic(modifiers) || Modifier.isProtected(modifiers), false);
         }
+        Due.end();
     }
 }

@@ -8,7 +8,7 @@ import java.util.Random;
  * as text, a raise as an exception, rows as lists of their own for every node.
  */
 public final class ModelTest {
-    private static final int RUNS = 1500;
+    private static final int OBJECTS = 4000;
 
     private static final class Raise extends RuntimeException {
         private static final long serialVersionUID = 1L;
@@ -347,18 +347,9 @@ public final class ModelTest {
         }
     }
 
-    private static int wrong = 0;
-    private static final int[] outcomes = new int[8];
-    private static String where = "";
-
-    private static void due(String what, long got, long want) {
-        if (got != want) {
-            wrong++;
-            if (wrong < 20) {
-                System.out.println(where + ": " + what + " answered " + got + ", due is " + want);
-            }
-        }
-    }
+    private static final int[] OUTCOMES = new int[6];
+    // What is kept of an object's calls to read both storages, and both raises, at its end.
+    private static final int CALLS_AT_END = 2 * 64 + 2;
 
     private static int someNumber(Random r) {
         return switch (r.nextInt(8)) {
@@ -391,81 +382,102 @@ public final class ModelTest {
         return n;
     }
 
-    private static void newNode(Random r, Model m, ProcedureCode x) {
-        int kind = r.nextInt(60) == 0 ? r.nextInt(20) - 3 : r.nextInt(14);
-        int cell = r.nextInt(30) == 0 ? r.nextInt(44) - 2 : r.nextInt(Math.max(1, m.cells.size()));
-        int a = kind == 0 ? someNumber(r) : kind == 1 || kind == 2 || kind == 9 || kind == 10 ? cell : someOf(r, m, kind != 11 || r.nextInt(3) == 0);
-        int b = someOf(r, m, kind < 10 || kind >= 11 && r.nextInt(3) == 0);
-        if (kind == 10 && r.nextInt(10) != 0) {
-            int first = someOf(r, m, true);
-            int second = someOf(r, m, true);
-            b = x.node(11, first, second);
-            due("node(11, " + first + ", " + second + ")", b, m.node(11, first, second));
-        }
-        due("node(" + kind + ", " + a + ", " + b + ")", x.node(kind, a, b), m.node(kind, a, b));
+    private static int oneNode(Model m, Calls x, int kind, int a, int b) {
+        int got = x.node(kind, a, b);
+        Due.is("node(" + kind + ", " + a + ", " + b + ")", got, m.node(kind, a, b));
+        return got;
     }
 
-    private static void newCell(Random r, Model m, ProcedureCode x) {
+    private static void newNode(Random r, Model m, Calls x) {
+        int kind = r.nextInt(60) == 0 ? r.nextInt(20) - 3 : r.nextInt(14);
+        boolean ofCell = kind == 1 || kind == 2 || kind == 9 || kind == 10;
+        int a = someOf(r, m, kind != 11 || r.nextInt(3) == 0);
+        int b = someOf(r, m, kind < 10 || kind >= 11 && r.nextInt(3) == 0);
+        if (kind == 0) {
+            a = someNumber(r);
+        } else if (ofCell) {
+            a = r.nextInt(30) == 0 ? r.nextInt(44) - 2 : r.nextInt(Math.max(1, m.cells.size()));
+        }
+        if (kind == 10 && r.nextInt(10) != 0) {
+            b = oneNode(m, x, 11, someOf(r, m, true), someOf(r, m, true));
+        }
+        oneNode(m, x, kind, a, b);
+    }
+
+    private static void newCell(Random r, Model m, Calls x) {
         int usage = r.nextInt(12) == 0 ? r.nextInt(6) - 2 : r.nextInt(3);
         int digits = r.nextInt(12) == 0 ? r.nextInt(14) - 2 : 1 + r.nextInt(9);
         int place = r.nextInt(12) == 0 ? r.nextInt() : r.nextInt(66);
-        due("cell(" + usage + ", " + digits + ", " + place + ")", x.cell(usage, digits, place), m.cell(usage, digits, place));
+        Due.is("cell(" + usage + ", " + digits + ", " + place + ")", x.cell(usage, digits, place), m.cell(usage, digits, place));
     }
 
-    private static void readCode(Model m, ProcedureCode x) {
+    private static void newByte(Random r, Model m, Calls x) {
+        int place = r.nextInt(68) - 2;
+        byte b = (byte) r.nextInt();
+        boolean in = place >= 0 && place < 64;
+        if (in) {
+            m.storages[0][place] = b;
+            m.storages[1][place] = b;
+        }
+        Due.is("put(" + place + ", " + b + ")", x.put(place, b), in ? 1 : -4);
+    }
+
+    private static void readRow(Model m, Calls x, int i) {
+        boolean in = i >= 0 && i < m.code.size();
+        Due.is("code(" + i + ", 0)", x.code(i, 0), in ? m.code.get(i).op : -1);
+        Due.is("code(" + i + ", 1)", x.code(i, 1), in ? (int) m.code.get(i).number : -1);
+        Due.is("fast(" + i + ")", x.fast(i), in && m.code.get(i).fast);
+        Due.is("point(" + i + ")", x.point(i), m.point(i));
+    }
+
+    /** The first rows, the last ones, those just outside, and some between; not all, for the calls' sake. */
+    private static void readCode(Random r, Model m, Calls x) {
         int count = m.code.size();
-        for (int i = -1; i <= count; i++) {
-            boolean in = i >= 0 && i < count;
-            due("code(" + i + ", 0)", x.code(i, 0), in ? m.code.get(i).op : -1);
-            due("code(" + i + ", 1)", x.code(i, 1), in ? (int) m.code.get(i).number : -1);
-            due("code(" + i + ", 2)", x.code(i, 2), -1);
-            due("fast(" + i + ")", x.fast(i) ? 1 : 0, in && m.code.get(i).fast ? 1 : 0);
-            due("point(" + i + ")", x.point(i), m.point(i));
+        int[] rows = {-1, 0, 1, r.nextInt(count + 1), r.nextInt(count + 1), count - 2, count - 1, count};
+        for (int i : rows) {
+            readRow(m, x, i);
         }
     }
 
-    private static void readState(Model m, ProcedureCode x) {
-        for (int i = 0; i < 64; i++) {
-            due("at(false, " + i + ")", x.at(false, i), m.storages[0][i]);
-            due("at(true, " + i + ")", x.at(true, i), m.storages[1][i]);
-        }
-        due("raised(false)", x.raised(false), m.raised[0]);
-        due("raised(true)", x.raised(true), m.raised[1]);
+    private static void readByte(Model m, Calls x, int place) {
+        Due.is("at(false, " + place + ")", x.at(false, place), m.storages[0][place]);
+        Due.is("at(true, " + place + ")", x.at(true, place), m.storages[1][place]);
     }
 
-    private static void oneCall(Random r, Model m, ProcedureCode x) {
+    private static void readRaises(Model m, Calls x) {
+        Due.is("raised(false)", x.raised(false), m.raised[0]);
+        Due.is("raised(true)", x.raised(true), m.raised[1]);
+    }
+
+    private static void runNode(Random r, Model m, Calls x, int root) {
+        boolean byCode = r.nextBoolean();
+        int want = m.run(byCode, root);
+        OUTCOMES[want == 2 ? 2 + m.raised[byCode ? 1 : 0] : want]++;
+        Due.is("run(" + byCode + ", " + root + ")", x.run(byCode, root), want);
+        readRaises(m, x);
+        readByte(m, x, r.nextInt(64));
+    }
+
+    /** One call that changes something, with a few that tell what it has changed. */
+    private static void oneChange(Random r, Model m, Calls x) {
         int root = someNode(r, m);
-        switch (r.nextInt(12)) {
-            case 0:
+        switch (r.nextInt(36)) {
+            case 0, 1, 2:
                 newCell(r, m, x);
                 break;
-            case 1:
-                int place = r.nextInt(68) - 2;
-                byte b = (byte) r.nextInt();
-                boolean in = place >= 0 && place < 64;
-                if (in) {
-                    m.storages[0][place] = b;
-                    m.storages[1][place] = b;
-                }
-                due("put(" + place + ", " + b + ")", x.put(place, b), in ? 1 : -4);
+            case 3, 4, 5:
+                newByte(r, m, x);
                 break;
-            case 2:
-                due("make(" + root + ")", x.make(root), m.make(root));
-                readCode(m, x);
+            case 6:
+                Due.is("make(" + root + ")", x.make(root), m.make(root));
+                readCode(r, m, x);
                 break;
-            case 3:
-                int made = m.make(root);
-                due("same(" + root + ")", x.same(root) ? 1 : 0, made > 0 ? 1 : 0);
-                readCode(m, x);
-                readState(m, x);
+            case 7:
+                Due.is("same(" + root + ")", x.same(root), m.make(root) > 0);
+                readRaises(m, x);
                 break;
-            case 4:
-            case 5:
-                boolean byCode = r.nextBoolean();
-                int want = m.run(byCode, root);
-                outcomes[want == 2 ? 2 + m.raised[byCode ? 1 : 0] : want]++;
-                due("run(" + byCode + ", " + root + ")", x.run(byCode, root), want);
-                readState(m, x);
+            case 8, 9, 10, 11, 12:
+                runNode(r, m, x, root);
                 break;
             default:
                 newNode(r, m, x);
@@ -473,28 +485,35 @@ public final class ModelTest {
         }
     }
 
+    private static void oneObject(int seed) {
+        Random r = new Random(seed);
+        Model m = new Model();
+        Calls x = new Calls();
+        for (int i = 0; i < 4; i++) {
+            newCell(r, m, x);
+        }
+        // No change asks for more than a call and eight rows of four.
+        while (x.left() > CALLS_AT_END + 40) {
+            Due.sentence("seed " + seed + ", " + x.left() + " calls left");
+            oneChange(r, m, x);
+        }
+        Due.sentence("seed " + seed + ", at the end");
+        for (int place = 0; place < 64; place++) {
+            readByte(m, x, place);
+        }
+        readRaises(m, x);
+    }
+
     public static void main(String[] args) {
-        for (int run = 0; run < RUNS && wrong == 0; run++) {
-            Random r = new Random(run);
-            Model m = new Model();
-            ProcedureCode x = new ProcedureCode();
-            for (int i = 0; i < 4; i++) {
-                newCell(r, m, x);
-            }
-            for (int call = 0; call < 360; call++) {
-                where = "seed " + run + ", call " + call;
-                oneCall(r, m, x);
-            }
-            readCode(m, x);
+        for (int seed = 0; seed < OBJECTS && Due.wrong() == 0; seed++) {
+            oneObject(seed);
         }
-        System.out.println("runs: refused " + outcomes[0] + ", ended " + outcomes[1] + ", raised 1: "
-            + outcomes[3] + ", 2: " + outcomes[4] + ", 3: " + outcomes[5]);
-        for (int kind : new int[] {0, 1, 3, 4, 5}) {
-            due("how often a run came out " + kind, Math.min(outcomes[kind], 1), 1);
+        System.out.println("runs: refused " + OUTCOMES[0] + ", ended " + OUTCOMES[1] + ", raised 1: "
+            + OUTCOMES[3] + ", 2: " + OUTCOMES[4] + ", 3: " + OUTCOMES[5]);
+        Due.sentence("every outcome of a run was met");
+        for (int outcome : new int[] {0, 1, 3, 4, 5}) {
+            Due.is("outcome " + outcome, OUTCOMES[outcome] > 0, true);
         }
-        System.out.println(wrong == 0 ? "the model and the class agree" : wrong + " answers are not as due");
-        if (wrong != 0) {
-            System.exit(1);
-        }
+        Due.end();
     }
 }

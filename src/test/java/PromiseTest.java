@@ -1,831 +1,850 @@
-/** For each promise of the document: ordinary inputs, the edges that it names, and wrong inputs. */
+/** For each sentence of promises 1 to 12: ordinary inputs, its boundaries, and refused calls. */
 public final class PromiseTest {
-    private static int wrong = 0;
-    private static String promise = "";
+    private static final int MOST = Integer.MAX_VALUE;
+    private static final int LEAST = Integer.MIN_VALUE;
+    private static final int[] OUTSIDE = {-1, 64, -64, 256, LEAST, MOST};
 
-    private static void due(String what, long got, long want) {
-        if (got != want) {
-            wrong++;
-            System.out.println(promise + ": " + what + " answered " + got + ", due is " + want);
-        }
-    }
-
-    private static void due(String what, boolean got, boolean want) {
-        due(what, got ? 1 : 0, want ? 1 : 0);
-    }
-
-    private static void due(String what, String got, String want) {
-        if (!got.equals(want)) {
-            wrong++;
-            System.out.println(promise + ": " + what + " gave [" + got + "], due is [" + want + "]");
-        }
-    }
-
-    /** A node's code as "op,number op,number .."; what make() answers when it gives no rows. */
-    private static String rows(ProcedureCode x, int root) {
-        int count = x.make(root);
-        if (count < 0) {
-            return "answer " + count;
-        }
-        due("code(count, 0)", x.code(count, 0), -1);
-        return kept(x);
-    }
-
-    private static String kept(ProcedureCode x) {
-        StringBuilder text = new StringBuilder();
-        for (int i = 0; x.code(i, 0) != -1; i++) {
-            text.append(i == 0 ? "" : " ").append(x.code(i, 0)).append(',').append(x.code(i, 1));
-        }
-        return text.toString();
-    }
-
-    private static String bytes(ProcedureCode x, boolean code, int from, int count) {
-        StringBuilder text = new StringBuilder();
-        for (int i = from; i < from + count; i++) {
-            text.append(i == from ? "" : " ").append(x.at(code, i));
-        }
-        return text.toString();
-    }
-
-    private static boolean throwsOutside(ProcedureCode x, boolean code, int place) {
-        try {
-            x.at(code, place);
-            return false;
-        } catch (ArrayIndexOutOfBoundsException e) {
-            return e.getClass() == ArrayIndexOutOfBoundsException.class;
-        }
-    }
-
-    private static int number(ProcedureCode x, int value) {
-        return x.node(0, value, 0);
-    }
-
-    /** Runs a node both ways; both ways must come to the same. */
-    private static int both(ProcedureCode x, int root) {
-        due("same(" + root + ")", x.same(root), true);
-        int walked = x.run(false, root);
-        due("run(true, " + root + ") beside the walk", x.run(true, root), walked);
-        due("raised(true) beside the walk", x.raised(true), x.raised(false));
-        due("the code's storage beside the walk's", bytes(x, true, 0, 64), bytes(x, false, 0, 64));
-        return walked;
-    }
-
-    /** A node whose code has 399 rows, all of them of one cell and of sums. */
-    private static int node399(ProcedureCode x) {
-        int[] doubled = new int[9];
-        doubled[1] = x.node(1, x.cell(0, 1, 0), 0);
-        for (int i = 2; i <= 8; i++) {
-            doubled[i] = x.node(3, doubled[i - 1], doubled[i - 1]);
-        }
-        return x.node(3, x.node(3, doubled[8], doubled[7]), doubled[4]);
-    }
+    // ---- promise 1
 
     private static void newObject() {
-        promise = "1";
-        ProcedureCode x = new ProcedureCode();
-        due("NONE", ProcedureCode.NONE, -1);
-        due("code(0, 0)", x.code(0, 0), -1);
-        due("code(0, 1)", x.code(0, 1), -1);
-        due("point(0)", x.point(0), -1);
-        due("fast(0)", x.fast(0), false);
-        due("make(0)", x.make(0), -2);
-        due("make(1)", x.make(1), -2);
-        due("run(false, 1)", x.run(false, 1), 0);
-        due("run(true, 1)", x.run(true, 1), 0);
-        due("same(1)", x.same(1), false);
-        due("raised(false)", x.raised(false), 0);
-        due("raised(true)", x.raised(true), 0);
-        due("node(1, 0, 0)", x.node(1, 0, 0), -2);
-        for (int i = 0; i < 64; i++) {
-            due("at(false, " + i + ")", x.at(false, i), 0);
-            due("at(true, " + i + ")", x.at(true, i), 0);
-        }
-        due("cell(0, 1, 0)", x.cell(0, 1, 0), 0);
-        due("node(0, 0, 0)", x.node(0, 0, 0), 1);
-        x.put(5, (byte) 9);
-        ProcedureCode y = new ProcedureCode();
-        due("another one's at(false, 5)", y.at(false, 5), 0);
-        due("another one's node(1, 0, 0)", y.node(1, 0, 0), -2);
+        Due.sentence("1: no cells");
+        Calls x = new Calls();
+        Due.is("says(0)", x.says(0), -2);
+        Due.is("says(-1)", x.says(-1), -2);
+        Due.is("node(9, 0, 1)", x.node(9, 0, x.number(1)), -2);
+        Due.is("the first one", x.cell(0, 1, 0), 0);
+
+        Due.sentence("1: no nodes");
+        Calls y = new Calls();
+        Due.is("make(0)", y.make(0), -2);
+        Due.is("make(1)", y.make(1), -2);
+        Due.is("run(false, 1)", y.run(false, 1), 0);
+        Due.is("run(true, 1)", y.run(true, 1), 0);
+        Due.is("same(1)", y.same(1), false);
+        Due.is("node(11, 1, 1)", y.node(11, 1, 1), -2);
+        Due.is("the first one", y.number(1), 1);
+
+        Due.sentence("1: no code");
+        Calls z = new Calls();
+        Due.is("code(0, 0)", z.code(0, 0), -1);
+        Due.is("code(0, 1)", z.code(0, 1), -1);
+        Due.is("point(0)", z.point(0), -1);
+        Due.is("fast(0)", z.fast(0), false);
+
+        Due.sentence("1: objects have nothing in common");
+        Calls first = new Calls();
+        first.cell(0, 1, 0);
+        first.put(0, 49);
+        first.run(true, first.node(6, first.says(0), first.number(0)));
+        Calls second = new Calls();
+        Due.is("says(0)", second.says(0), -2);
+        Due.is("make(1)", second.make(1), -2);
+        Due.is("code(0, 0)", second.code(0, 0), -1);
+        Due.is("raised(true)", second.raised(true), 0);
+        Due.is("at(true, 0)", second.at(true, 0), 0);
+    }
+
+    // ---- promise 2
+
+    private static void cell(Calls x, int usage, int digits, int place, int want) {
+        Due.is("cell(" + usage + ", " + digits + ", " + place + ")", x.cell(usage, digits, place), want);
     }
 
     private static void cells() {
-        promise = "2";
-        ProcedureCode x = new ProcedureCode();
-        int[][] refused = {
-            {-1, 1, 0}, {3, 1, 0}, {Integer.MAX_VALUE, 1, 0}, {Integer.MIN_VALUE, 1, 0},
-            {0, 0, 0}, {0, 10, 0}, {1, 0, 0}, {1, 10, 0}, {2, 0, 0}, {2, 10, 0}, {0, -1, 0},
-            {0, 1, -1}, {0, 1, 64}, {0, 9, 56}, {0, 1, Integer.MAX_VALUE}, {0, 1, Integer.MIN_VALUE},
-            {1, 1, 64}, {1, 2, 63}, {1, 8, 60}, {1, 9, 60}, {1, 9, Integer.MAX_VALUE},
-            {2, 1, 61}, {2, 9, 61}, {2, 1, -1}, {2, 9, Integer.MAX_VALUE}, {0, Integer.MAX_VALUE, 0}};
-        int[][] taken = {
-            {0, 1, 0}, {0, 1, 63}, {0, 9, 55}, {1, 1, 63}, {1, 2, 62}, {1, 3, 62}, {1, 8, 59},
-            {1, 9, 59}, {2, 1, 60}, {2, 9, 60}, {2, 9, 0}, {2, 9, 0}};
-        for (int[] r : refused) {
-            due("cell(" + r[0] + ", " + r[1] + ", " + r[2] + ")", x.cell(r[0], r[1], r[2]), -4);
+        Due.sentence("2: a new cell: its number");
+        Calls x = new Calls();
+        cell(x, 0, 3, 0, 0);
+        cell(x, 1, 4, 8, 1);
+        cell(x, 2, 9, 16, 2);
+        cell(x, 2, 9, 16, 3);
+
+        Due.sentence("2: -4 when usage is not so");
+        Calls usages = new Calls();
+        cell(usages, LEAST, 1, 0, -4);
+        cell(usages, -1, 1, 0, -4);
+        cell(usages, 0, 1, 0, 0);
+        cell(usages, 1, 1, 0, 1);
+        cell(usages, 2, 1, 0, 2);
+        cell(usages, 3, 1, 0, -4);
+        cell(usages, MOST, 1, 0, -4);
+
+        Due.sentence("2: -4 when digits are not so");
+        for (int usage = 0; usage <= 2; usage++) {
+            Calls digits = new Calls();
+            cell(digits, usage, LEAST, 0, -4);
+            cell(digits, usage, -1, 0, -4);
+            cell(digits, usage, 0, 0, -4);
+            cell(digits, usage, 1, 0, 0);
+            cell(digits, usage, 9, 0, 1);
+            cell(digits, usage, 10, 0, -4);
+            cell(digits, usage, MOST, 0, -4);
         }
-        for (int i = 0; i < taken.length; i++) {
-            int[] t = taken[i];
-            due("cell(" + t[0] + ", " + t[1] + ", " + t[2] + ")", x.cell(t[0], t[1], t[2]), i);
+
+        Due.sentence("2: -4 when not all of it is within the storage");
+        int[][] lastPlaces = {{0, 1, 63}, {0, 2, 62}, {0, 8, 56}, {0, 9, 55}, {1, 1, 63}, {1, 2, 62}, {1, 3, 62},
+            {1, 4, 61}, {1, 5, 61}, {1, 6, 60}, {1, 7, 60}, {1, 8, 59}, {1, 9, 59}, {2, 1, 60}, {2, 4, 60}, {2, 9, 60}};
+        for (int[] l : lastPlaces) {
+            Calls places = new Calls();
+            cell(places, l[0], l[1], LEAST, -4);
+            cell(places, l[0], l[1], -1, -4);
+            cell(places, l[0], l[1], 0, 0);
+            cell(places, l[0], l[1], l[2] - 1, 1);
+            cell(places, l[0], l[1], l[2], 2);
+            cell(places, l[0], l[1], l[2] + 1, -4);
+            cell(places, l[0], l[1], 64, -4);
+            cell(places, l[0], l[1], MOST - 3, -4);
+            cell(places, l[0], l[1], MOST, -4);
         }
-        for (int i = taken.length; i < 40; i++) {
-            due("the cell behind " + i + " others", x.cell(i % 3, 1 + i % 9, i), i);
+        tooManyCells();
+    }
+
+    private static void tooManyCells() {
+        Due.sentence("2: NONE when there are 40");
+        Calls x = new Calls();
+        for (int i = 0; i < 40; i++) {
+            cell(x, i % 3, 1 + i % 9, i, i);
         }
-        due("the 41st cell", x.cell(0, 1, 0), -1);
-        due("the 41st cell, not so", x.cell(0, 1, 64), -4);
-        due("node(1, 39, 0)", x.node(1, 39, 0), 1);
-        due("node(1, 40, 0)", x.node(1, 40, 0), -2);
-        due("node(1, -1, 0)", x.node(1, -1, 0), -2);
+        cell(x, 0, 1, 0, -1);
+        cell(x, 2, 9, 60, -1);
+        Due.is("the 40th is there", x.says(39), 1);
+        Due.is("a 41st is not", x.says(40), -2);
+
+        Due.sentence("2: what is not so is -4, also when there are 40");
+        cell(x, 3, 1, 0, -4);
+        cell(x, 0, 10, 0, -4);
+        cell(x, 0, 1, 64, -4);
+
+        Due.sentence("2: a refused cell takes no number");
+        Calls y = new Calls();
+        cell(y, 0, 1, 0, 0);
+        cell(y, 0, 1, 64, -4);
+        Due.is("no second one", y.says(1), -2);
+        cell(y, 0, 1, 63, 1);
+    }
+
+    // ---- promise 3
+
+    private static void node(Calls x, int kind, int a, int b, int want) {
+        Due.is("node(" + kind + ", " + a + ", " + b + ")", x.node(kind, a, b), want);
+    }
+
+    /** Cells 0 and 1; node 1 a value, 2 a storing, 3 an 11 of values, 4 .. 6 with statements in them. */
+    private static Calls someNodes() {
+        Calls x = new Calls();
+        x.cell(0, 1, 0);
+        x.cell(0, 1, 1);
+        node(x, 0, 1, 0, 1);
+        node(x, 9, 0, 1, 2);
+        node(x, 11, 1, 1, 3);
+        node(x, 11, 2, 1, 4);
+        node(x, 11, 1, 2, 5);
+        node(x, 11, 2, 2, 6);
+        return x;
     }
 
     private static void nodes() {
-        promise = "3";
-        ProcedureCode x = new ProcedureCode();
-        x.cell(0, 1, 0);
-        due("kind -1", x.node(-1, 0, 0), -4);
-        due("kind 14", x.node(14, 1, 1), -4);
-        due("kind 15", x.node(15, 1, 1), -4);
-        due("a number, b is free", x.node(0, Integer.MIN_VALUE, 99), 1);
-        due("a cell, b is free", x.node(1, 0, -7), 2);
-        due("a statement", x.node(9, 0, 1), 3);
-        due("an element", x.node(2, 0, 1), 4);
-        due("two values in a row", x.node(11, 1, 2), 5);
-        due("two statements in a row", x.node(11, 3, 5), 6);
-        due("a value and a statement in a row", x.node(11, 1, 3), 7);
-        due("a statement and a value in a row", x.node(11, 3, 1), 8);
-        due("2 of no cell", x.node(2, 1, 1), -2);
-        due("2 of no node", x.node(2, 0, 9), -2);
-        due("2 of node 0", x.node(2, 0, 0), -2);
-        due("2 of a statement", x.node(2, 0, 3), -2);
+        Due.sentence("3: a new node: its number");
+        Calls x = someNodes();
+        node(x, 10, 1, 3, 7);
+        node(x, 12, 1, 2, 8);
+        node(x, 13, 1, 8, 9);
+        node(x, 2, 1, 1, 10);
         for (int kind = 3; kind <= 8; kind++) {
-            due(kind + " a no node", x.node(kind, 0, 1), -2);
-            due(kind + " b no node", x.node(kind, 1, 0), -2);
-            due(kind + " a behind the last", x.node(kind, 9, 1), -2);
-            due(kind + " b itself", x.node(kind, 1, 9), -2);
-            due(kind + " a below 0", x.node(kind, -1, 1), -2);
-            due(kind + " a a statement", x.node(kind, 3, 1), -2);
-            due(kind + " b a statement", x.node(kind, 1, 3), -2);
-            due(kind + " b of kind 11", x.node(kind, 1, 5), -2);
+            node(x, kind, 10, 1, 8 + kind);
         }
-        due("9 to no cell", x.node(9, 1, 1), -2);
-        due("9 to cell -1", x.node(9, -1, 1), -2);
-        due("9 of no node", x.node(9, 0, 9), -2);
-        due("9 of a statement", x.node(9, 0, 3), -2);
-        due("10 to no cell", x.node(10, 1, 5), -2);
-        due("10 of no node", x.node(10, 0, 9), -2);
-        due("10 of node 0", x.node(10, 0, 0), -2);
-        due("10 of a value", x.node(10, 0, 1), -2);
-        due("10 of a kind 9", x.node(10, 0, 3), -2);
-        due("10 of two statements", x.node(10, 0, 6), -2);
-        due("10, second side a statement", x.node(10, 0, 7), -2);
-        due("10, first side a statement", x.node(10, 0, 8), -2);
-        due("11 of no node", x.node(11, 0, 1), -2);
-        due("11 b of no node", x.node(11, 1, 9), -2);
-        for (int kind = 12; kind <= 13; kind++) {
-            due(kind + " a no node", x.node(kind, 0, 3), -2);
-            due(kind + " b no node", x.node(kind, 1, 0), -2);
-            due(kind + " a a statement", x.node(kind, 3, 1), -2);
-            due(kind + " a of kind 11", x.node(kind, 5, 1), -2);
+        node(x, 12, 1, 1, 17);
+        node(x, 13, 16, 1, 18);
+
+        Due.sentence("3: -4 kind is not so");
+        Calls y = new Calls();
+        node(y, LEAST, 0, 0, -4);
+        node(y, -1, 0, 0, -4);
+        node(y, 0, 0, 0, 1);
+        node(y, 13, 1, 1, 2);
+        node(y, 14, 1, 1, -4);
+        node(y, 15, 1, 1, -4);
+        node(y, MOST, 1, 1, -4);
+        node(y, 14, 99, 99, -4);
+
+        Due.sentence("3: what the kind doesn't need is free");
+        Calls z = someNodes();
+        node(z, 0, LEAST, LEAST, 7);
+        node(z, 0, MOST, MOST, 8);
+        node(z, 1, 0, -1, 9);
+        node(z, 1, 1, 999, 10);
+        node(z, 1, 1, 2, 11);
+    }
+
+    private static void nodesOfNoCell() {
+        Due.sentence("3: -2 a is no cell");
+        for (int kind : new int[] {1, 2, 9, 10}) {
+            Calls x = someNodes();
+            int b = kind == 10 ? 3 : 1;
+            node(x, kind, LEAST, b, -2);
+            node(x, kind, -1, b, -2);
+            node(x, kind, 2, b, -2);
+            node(x, kind, 40, b, -2);
+            node(x, kind, MOST, b, -2);
+            node(x, kind, 0, b, 7);
+            node(x, kind, 1, b, 8);
         }
-        due("refused ones take no number", x.node(10, 0, 5), 9);
-        due("10 as a value", x.node(3, 9, 1), -2);
-        due("12 of a statement", x.node(12, 1, 9), 10);
-        due("12 of a value", x.node(12, 1, 1), 11);
-        due("13 of a statement", x.node(13, 1, 11), 12);
-        due("13 of a value", x.node(13, 1, 1), 13);
-        due("12 as a value", x.node(9, 0, 11), -2);
-        due("13 as a value", x.node(12, 12, 1), -2);
-        for (int n = 14; n <= 200; n++) {
-            due("node " + n, x.node(0, n, 0), n);
+    }
+
+    private static void nodesOfNoNode() {
+        Due.sentence("3: -2 a is no node");
+        for (int kind : new int[] {3, 4, 5, 6, 7, 8, 11, 12, 13}) {
+            Calls x = someNodes();
+            for (int a : new int[] {LEAST, -1, 0, 7, 8, 200, 201, MOST}) {
+                node(x, kind, a, 1, -2);
+            }
+            node(x, kind, 1, 1, 7);
+            Due.is("the last node that there is", x.node(kind, kind < 9 ? 7 : 1, 1), 8);
         }
-        due("the 201st", x.node(0, 0, 0), -1);
-        due("the 201st, kind is not so", x.node(14, 0, 0), -4);
-        due("the 201st, no such cell", x.node(1, 1, 0), -2);
-        due("the 201st, no such node", x.node(3, 1, 201), -2);
-        due("make(200)", x.make(200), 1);
-        due("make(201)", x.make(201), -2);
+        Due.sentence("3: -2 b is no node");
+        for (int kind : new int[] {2, 3, 4, 5, 6, 7, 8, 9, 10, 11, 12, 13}) {
+            Calls x = someNodes();
+            int a = kind == 2 || kind == 9 || kind == 10 ? 0 : 1;
+            for (int b : new int[] {LEAST, -1, 0, 7, 8, 200, 201, MOST}) {
+                node(x, kind, a, b, -2);
+            }
+            node(x, 11, 1, 1, 7);
+            node(x, 0, 5, 5, 8);
+            node(x, kind, a, kind == 10 ? 7 : 8, 9);
+        }
+    }
+
+    private static void nodesOfStatements() {
+        Due.sentence("3: -2 for 10, b is not of kind 11");
+        Calls x = someNodes();
+        int[] others = {1, 2, x.says(0), x.node(12, 1, 2), x.node(13, 1, 2), x.storeBehind(0, 1, 1)};
+        for (int b : others) {
+            node(x, 10, 0, b, -2);
+        }
+        node(x, 10, 0, 3, 12);
+
+        Due.sentence("3: -2 a statement where a value is taken, of 10's b");
+        node(x, 10, 0, 4, -2);
+        node(x, 10, 0, 5, -2);
+        node(x, 10, 0, 6, -2);
+
+        int[] statements = {2, 3, others[3], others[4], others[5]};
+        for (int s : statements) {
+            Due.sentence("3: -2 a statement where a value is taken, b of 2, 9");
+            node(x, 2, 0, s, -2);
+            node(x, 9, 0, s, -2);
+            Due.sentence("3: -2 a statement where a value is taken, sides of 3 .. 8");
+            for (int kind = 3; kind <= 8; kind++) {
+                node(x, kind, s, 1, -2);
+                node(x, kind, 1, s, -2);
+            }
+            Due.sentence("3: -2 a statement where a value is taken, a of 12, 13");
+            node(x, 12, s, 1, -2);
+            node(x, 13, s, 1, -2);
+        }
+
+        Due.sentence("3: a refused node takes no number");
+        node(x, 0, 1, 1, 13);
+        Due.sentence("3: statements are free on both sides of 11, and as b of 12, 13");
+        int next = 14;
+        for (int s : statements) {
+            node(x, 11, s, s, next);
+            node(x, 12, 1, s, next + 1);
+            node(x, 13, 1, s, next + 2);
+            next += 3;
+        }
+    }
+
+    private static void tooManyNodes() {
+        Due.sentence("3: NONE when there are 200");
+        Calls x = new Calls();
+        x.cell(0, 1, 0);
+        for (int i = 1; i <= 199; i++) {
+            node(x, 0, i, 0, i);
+        }
+        node(x, 1, 0, 0, 200);
+        node(x, 0, 1, 0, -1);
+        node(x, 1, 0, 0, -1);
+        node(x, 11, 200, 200, -1);
+        Due.is("the 200th is there", x.rows(200), "1,0");
+        Due.is("a 201st is not", x.make(201), -2);
+
+        Due.sentence("3: what is not so is -4 or -2, also when there are 200");
+        node(x, 14, 1, 1, -4);
+        node(x, 1, 1, 0, -2);
+        node(x, 3, 1, 201, -2);
+        node(x, 10, 0, 1, -2);
+    }
+
+    // ---- promise 4
+
+    private static void make(Calls x, String what, int root, int want) {
+        Due.is("make of " + what, x.make(root), want);
+        Due.is("the last row of " + what, x.code(want < 0 ? 0 : want - 1, 0) != -1, want > 0);
+        Due.is("a row behind all of " + what, x.code(Math.max(want, 0), 0), -1);
+    }
+
+    /** A node of so many rows by every kind; more than 400 have no place. */
+    private static void makesRows(int rows) {
+        Calls x = new Calls();
+        x.cell(0, 1, 0);
+        int one = x.number(1);
+        int store = x.node(9, 0, one);
+        int want = rows <= 400 ? rows : -1;
+        make(x, rows + " rows of 2 or 3", x.valueOfRows(0, rows), want);
+        int oneLess = x.valueOfRows(0, rows - 1);
+        int twoLess = x.valueOfRows(0, rows - 2);
+        int threeLess = x.valueOfRows(0, rows - 3);
+        int fourLess = x.valueOfRows(0, rows - 4);
+        make(x, rows + " rows of 2", x.node(2, 0, oneLess), want);
+        for (int kind = 3; kind <= 8; kind++) {
+            make(x, rows + " rows of " + kind, x.node(kind, twoLess, one), want);
+            make(x, rows + " rows of " + kind + ", b long", x.node(kind, one, twoLess), want);
+        }
+        make(x, rows + " rows of 9", x.node(9, 0, oneLess), want);
+        make(x, rows + " rows of 10", x.storeBehind(0, twoLess, one), want);
+        make(x, rows + " rows of 10, second side long", x.storeBehind(0, one, twoLess), want);
+        make(x, rows + " rows of 11", x.node(11, store, threeLess), want);
+        make(x, rows + " rows of 11, a long", x.node(11, threeLess, store), want);
+        make(x, rows + " rows of 11 of values", x.node(11, threeLess, one), want);
+        make(x, rows + " rows of 12", x.node(12, threeLess, store), want);
+        make(x, rows + " rows of 12, b a long value", x.node(12, one, threeLess), want);
+        make(x, rows + " rows of 13", x.node(13, fourLess, store), want);
+        make(x, rows + " rows of 13, b a long value", x.node(13, one, fourLess), want);
     }
 
     private static void making() {
-        promise = "4";
-        ProcedureCode x = new ProcedureCode();
-        x.cell(0, 2, 0);
-        int seven = number(x, 7);
-        int zero = number(x, 0);
-        int cell = x.node(1, 0, 0);
-        int pair = x.node(11, seven, cell);
-        int store = x.node(9, 0, seven);
-        due("0", rows(x, seven), "0,7");
-        due("1", rows(x, cell), "1,0");
-        due("2", rows(x, x.node(2, 0, seven)), "0,7 2,0");
-        for (int kind = 3; kind <= 8; kind++) {
-            due("" + kind, rows(x, x.node(kind, cell, seven)), "1,0 0,7 " + kind + ",0");
+        Due.sentence("4: a node's code: how many rows");
+        Calls x = new Calls();
+        x.cell(0, 1, 0);
+        int one = x.number(1);
+        int store = x.node(9, 0, one);
+        make(x, "a number", one, 1);
+        make(x, "a storing", store, 2);
+        make(x, "a loop", x.node(13, one, store), 5);
+
+        Due.sentence("4: in place of the one before");
+        Due.is("the loop's", x.kept(), "0,1 13,5 0,1 9,0 14,2");
+        Due.is("the number's", x.rows(one), "0,1");
+        Due.is("the number's, no more storing", x.point(0), -1);
+        Due.is("the storing's", x.rows(store), "0,1 9,0");
+
+        Due.sentence("4: -2 no such node");
+        for (int root : new int[] {LEAST, -1, 0, 5, 200, 201, MOST}) {
+            Due.is("make(" + root + ")", x.make(root), -2);
         }
-        due("9", rows(x, store), "0,7 9,0");
-        due("10", rows(x, x.node(10, 0, pair)), "0,7 1,0 10,0");
-        due("11 of values", rows(x, pair), "0,7 15,0 1,0 15,0");
-        due("11 of statements", rows(x, x.node(11, store, store)), "0,7 9,0 0,7 9,0");
-        due("11 of a statement and a value", rows(x, x.node(11, store, cell)), "0,7 9,0 1,0 15,0");
-        due("12 of a statement", rows(x, x.node(12, zero, store)), "0,0 12,4 0,7 9,0");
-        due("12 of a value", rows(x, x.node(12, cell, seven)), "1,0 12,4 0,7 15,0");
-        int loop = x.node(13, cell, store);
-        due("13 of a statement", rows(x, loop), "1,0 13,5 0,7 9,0 14,2");
-        int loopOfValue = x.node(13, seven, cell);
-        due("13 of a value", rows(x, loopOfValue), "0,7 13,5 1,0 15,0 14,2");
-        due("behind others", rows(x, x.node(11, store, x.node(13, seven, loop))),
-            "0,7 9,0 0,7 13,10 1,0 13,9 0,7 9,0 14,6 14,4");
-        due("12 within 12", rows(x, x.node(12, cell, x.node(12, zero, pair))), "1,0 12,8 0,0 12,8 0,7 15,0 1,0 15,0");
-        folding(x, seven, zero, cell);
-        limits();
+        Due.is("make(1)", x.make(1), 1);
+        Due.is("make of the last one", x.make(3), 5);
+        Due.sentence("4: a refused node leaves the code as it is");
+        Due.is("make(0)", x.make(0), -2);
+        Due.is("the code before", x.kept(), "0,1 13,5 0,1 9,0 14,2");
+
+        Due.sentence("4: NONE when there would be more than 400");
+        makesRows(399);
+        makesRows(400);
+        makesRows(401);
+        makesRows(402);
+        Calls y = new Calls();
+        y.cell(0, 1, 0);
+        int shared = y.says(0);
+        for (int i = 0; i < 150; i++) {
+            shared = y.node(i % 2 == 0 ? 3 : 8, shared, shared);
+        }
+        Due.is("2 to the 150. rows", y.make(shared), -1);
+
+        Due.sentence("4: then there is none");
+        Due.is("a storing", y.make(y.node(9, 0, y.node(3, 1, 1))), 4);
+        Due.is("too many", y.make(shared), -1);
+        Due.is("code(0, 0)", y.code(0, 0), -1);
+        Due.is("code(0, 1)", y.code(0, 1), -1);
+        Due.is("fast(2)", y.fast(2), false);
+        Due.is("point(0)", y.point(0), -1);
+        Due.is("another one behind it", y.make(1), 1);
+        Due.is("its row", y.kept(), "1,0");
     }
 
-    private static void folding(ProcedureCode x, int seven, int zero, int cell) {
-        int minusTwo = number(x, -2);
-        due("3 folded", rows(x, x.node(3, seven, minusTwo)), "0,5");
-        due("4 folded", rows(x, x.node(4, seven, minusTwo)), "0,9");
-        due("5 folded", rows(x, x.node(5, seven, minusTwo)), "0,-14");
-        due("6 folded, whole part", rows(x, x.node(6, seven, minusTwo)), "0,-3");
-        due("7 folded", rows(x, x.node(7, minusTwo, seven)), "0,1");
-        due("7 folded, equal", rows(x, x.node(7, seven, seven)), "0,0");
-        due("8 folded", rows(x, x.node(8, seven, seven)), "0,1");
-        due("8 folded, unlike", rows(x, x.node(8, seven, zero)), "0,0");
-        int byZero = x.node(6, seven, zero);
-        due("no folding by zero", rows(x, byZero), "0,7 0,0 6,0");
-        due("no folding above", rows(x, x.node(3, byZero, seven)), "0,7 0,0 6,0 0,7 3,0");
-        int five = x.node(3, seven, minusTwo);
-        due("folded twice", rows(x, x.node(5, five, five)), "0,25");
-        due("folded on one side", rows(x, x.node(5, five, cell)), "0,5 1,0 5,0");
-        due("folded in 12", rows(x, x.node(12, five, five)), "0,5 12,4 0,5 15,0");
-        int least = number(x, Integer.MIN_VALUE);
-        int leastLong = x.node(5, x.node(5, least, least), minusTwo);
-        due("going round 64 bits", rows(x, x.node(4, leastLong, number(x, 1))), "0,-1");
-        due("the least by -1", rows(x, x.node(8, x.node(6, leastLong, number(x, -1)), leastLong)), "0,1");
-    }
-
-    private static void limits() {
-        ProcedureCode x = new ProcedureCode();
-        int most = node399(x);
-        int cell = 1;
-        int full = x.node(9, 0, most);
-        int over = x.node(3, most, cell);
-        due("399 rows", x.make(most), 399);
-        due("400 rows", x.make(full), 400);
-        due("code(399, 0)", x.code(399, 0), 9);
-        due("code(400, 0)", x.code(400, 0), -1);
-        due("make(0)", x.make(0), -2);
-        due("the code before stays", x.code(399, 0), 9);
-        due("401 rows", x.make(over), -1);
-        due("then there is none", x.code(0, 0), -1);
-        due("then there is no storing", x.point(0), -1);
-        due("then nothing is fast", x.fast(2), false);
-        due("400 rows again", x.make(full), 400);
-        due("a row for a value that nothing takes", x.make(x.node(11, most, cell)), -1);
-        int shared = number(x, 3);
-        int sharedCell = cell;
-        for (int i = 0; i < 60; i++) {
-            shared = x.node(3, shared, shared);
-            sharedCell = x.node(11, sharedCell, sharedCell);
-        }
-        due("2 to the 60th numbers, folded", x.make(shared), 1);
-        due("2 to the 60th statements", x.make(sharedCell), -1);
-    }
+    // ---- promise 5
 
     private static void readingRows() {
-        promise = "5";
-        ProcedureCode x = new ProcedureCode();
+        Due.sentence("5: what = 0 its op, NONE for others");
+        Calls x = new Calls();
         x.cell(2, 9, 0);
-        int big = number(x, Integer.MAX_VALUE);
-        int product = x.node(5, big, big);
-        x.make(x.node(9, 0, product));
-        due("code(0, 0)", x.code(0, 0), 0);
-        due("the lowest 32 bits", x.code(0, 1), 1);
-        due("code(0, 2)", x.code(0, 2), -1);
-        due("code(0, -1)", x.code(0, -1), -1);
-        due("code(-1, 0)", x.code(-1, 0), -1);
-        due("code(1, 1)", x.code(1, 1), 0);
-        due("code(2, 0)", x.code(2, 0), -1);
-        due("code(2, 1)", x.code(2, 1), -1);
-        due("code(MAX, 0)", x.code(Integer.MAX_VALUE, 0), -1);
-        due("code(MIN, 1)", x.code(Integer.MIN_VALUE, 1), -1);
-        x.make(big);
-        due("a longer code is gone", x.code(1, 0), -1);
-        due("the number", x.code(0, 1), Integer.MAX_VALUE);
-    }
-
-    private static void stored(int usage, int digits, int value, String want) {
-        ProcedureCode x = new ProcedureCode();
-        int size = usage == 0 ? digits : usage == 1 ? digits / 2 + 1 : 4;
-        for (int i = 0; i < 64; i++) {
-            x.put(i, (byte) 85);
+        x.cell(2, 9, 4);
+        x.make(x.node(9, 1, x.number(-7)));
+        Due.is("code(0, 0)", x.code(0, 0), 0);
+        Due.is("code(1, 0)", x.code(1, 0), 9);
+        Due.is("code(0, 1)", x.code(0, 1), -7);
+        Due.is("code(1, 1)", x.code(1, 1), 1);
+        for (int what : new int[] {LEAST, -1, 2, 3, MOST}) {
+            Due.is("code(0, " + what + ")", x.code(0, what), -1);
+            Due.is("code(1, " + what + ")", x.code(1, what), -1);
         }
-        x.cell(usage, digits, 1);
-        String what = value + " in " + digits + " digits of usage " + usage;
-        due(what, both(x, x.node(9, 0, number(x, value))), 1);
-        due(what, bytes(x, false, 0, size + 2), "85 " + want + " 85");
-    }
 
-    private static void storing() {
-        promise = "6, storing";
-        stored(0, 3, 0, "48 48 48");
-        stored(0, 3, 42, "48 52 50");
-        stored(0, 3, -42, "48 52 114");
-        stored(0, 3, 12345, "51 52 53");
-        stored(0, 3, -12345, "51 52 117");
-        stored(0, 2, -100, "48 48");
-        stored(0, 1, -9, "121");
-        stored(0, 9, Integer.MIN_VALUE, "49 52 55 52 56 51 54 52 120");
-        stored(1, 1, 5, "92");
-        stored(1, 1, -5, "93");
-        stored(1, 2, 47, "4 124");
-        stored(1, 2, -347, "4 125");
-        stored(1, 3, -347, "52 125");
-        stored(1, 3, -5000, "0 12");
-        stored(1, 4, 0, "0 0 12");
-        stored(1, 8, -98765432, "9 -121 101 67 45");
-        stored(1, 9, 987654321, "-104 118 84 50 28");
-        stored(2, 9, 1, "0 0 0 1");
-        stored(2, 9, -1, "-1 -1 -1 -1");
-        stored(2, 9, 999999999, "59 -102 -55 -1");
-        stored(2, 9, 1999999999, "59 -102 -55 -1");
-        stored(2, 9, -1999999999, "-60 101 54 1");
-        stored(2, 2, 300, "0 0 0 0");
-        stored(2, 2, -301, "-1 -1 -1 -1");
-        stored(2, 3, 300, "0 0 1 44");
-    }
-
-    private static void loaded(int usage, int digits, byte[] given, int want) {
-        ProcedureCode x = new ProcedureCode();
-        for (int i = 0; i < given.length; i++) {
-            x.put(i, given[i]);
+        Due.sentence("5: NONE when there is no such row");
+        for (int i : new int[] {LEAST, -1, 2, 3, 399, 400, MOST}) {
+            Due.is("code(" + i + ", 0)", x.code(i, 0), -1);
+            Due.is("code(" + i + ", 1)", x.code(i, 1), -1);
         }
-        x.cell(usage, digits, 0);
-        x.cell(0, 1, 60);
-        int alike = x.node(8, x.node(1, 0, 0), number(x, want));
-        due("reading " + want + " of usage " + usage, both(x, x.node(9, 1, alike)), 1);
-        due("reading " + want + " of usage " + usage, x.at(false, 60), 49);
+        Calls full = new Calls();
+        full.cell(0, 1, 0);
+        full.make(full.node(9, 0, full.valueOfRows(0, 399)));
+        Due.is("code(398, 0) of 400", full.code(398, 0), 3);
+        Due.is("code(399, 0) of 400", full.code(399, 0), 9);
+        Due.is("code(399, 1) of 400", full.code(399, 1), 0);
+        Due.is("code(400, 0) of 400", full.code(400, 0), -1);
+        Due.is("code(400, 1) of 400", full.code(400, 1), -1);
+
+        Due.sentence("5: 1 the lowest 32 bits of its number");
+        long[] numbers = {0, -1, LEAST, MOST, 1L << 31, (1L << 32) - 1, 1L << 32, (1L << 32) + 1, -(1L << 31) - 1,
+            -(1L << 32), 0x123456789abcdef0L, Long.MIN_VALUE, Long.MAX_VALUE, Long.MIN_VALUE + 1};
+        for (long number : numbers) {
+            Calls y = new Calls();
+            Due.is("rows of " + number, y.make(y.whole(number)), 1);
+            Due.is("op of " + number, y.code(0, 0), 0);
+            Due.is("lowest bits of " + number, y.code(0, 1), (int) number);
+        }
     }
 
-    private static void loading() {
-        promise = "6, reading";
-        loaded(0, 3, new byte[] {0, 0, 0}, 0);
-        loaded(0, 3, new byte[] {49, 50, 51}, 123);
-        loaded(0, 3, new byte[] {49, 50, 115}, -123);
-        loaded(0, 3, new byte[] {113, 114, 51}, 123);
-        loaded(0, 3, new byte[] {10, -1, 15}, 55);
-        loaded(0, 2, new byte[] {31, -1}, -55);
-        loaded(0, 1, new byte[] {64}, 0);
-        loaded(1, 3, new byte[] {18, 60}, 123);
-        loaded(1, 3, new byte[] {18, 61}, -123);
-        loaded(1, 3, new byte[] {18, 63}, 123);
-        loaded(1, 3, new byte[] {18, 48}, 123);
-        loaded(1, 2, new byte[] {-2, 61}, -43);
-        loaded(1, 2, new byte[] {18, 60}, 23);
-        loaded(1, 3, new byte[] {-85, -52}, 12);
-        loaded(2, 1, new byte[] {0, 0, 1, 2}, 258);
-        loaded(2, 1, new byte[] {-1, -1, -1, -2}, -2);
-        loaded(2, 1, new byte[] {-128, 0, 0, 0}, Integer.MIN_VALUE);
-        loaded(2, 9, new byte[] {127, -1, -1, -1}, Integer.MAX_VALUE);
-    }
+    // ---- promise 6
 
     private static void running() {
-        promise = "6";
-        ProcedureCode x = new ProcedureCode();
+        Due.sentence("6: walked on its storage");
+        Calls x = new Calls();
         x.cell(0, 2, 10);
-        int five = number(x, 5);
-        int cell = x.node(1, 0, 0);
-        int plus = x.node(9, 0, x.node(3, cell, five));
-        due("run(false, 0)", x.run(false, 0), 0);
-        due("run(true, 0)", x.run(true, 0), 0);
-        due("run(false, -1)", x.run(false, -1), 0);
-        due("run(true, 6)", x.run(true, 6), 0);
-        due("run(false, 6)", x.run(false, 6), 0);
-        due("the walk", x.run(false, plus), 1);
-        due("the walk's own storage", bytes(x, false, 10, 2), "48 53");
-        due("not the code's", bytes(x, true, 10, 2), "0 0");
-        due("no code of a walk", kept(x), "");
-        due("by code", x.run(true, plus), 1);
-        due("by code, twice", x.run(true, plus), 1);
-        due("the code's own storage", bytes(x, true, 10, 2), "49 48");
-        due("not the walk's", bytes(x, false, 10, 2), "48 53");
-        due("its code is kept", kept(x), "1,0 0,5 3,0 9,0");
-        x.make(five);
-        x.run(false, plus);
-        due("a walk leaves the code", kept(x), "0,5");
-        due("no such node, by code", x.run(true, 99), 0);
-        due("no such node leaves the code", kept(x), "0,5");
-        due("a value is run", both(x, cell) , 1);
+        int five = x.number(5);
+        int plus = x.node(9, 0, x.node(3, x.says(0), five));
+        Due.is("the walk", x.run(false, plus), 1);
+        Due.is("its storage", x.bytes(false, 10, 2), "48 53");
+        Due.is("not the code's", x.bytes(true, 10, 2), "0 0");
+        Due.is("a walk makes no code", x.kept(), "");
+
+        Due.sentence("6: by code on the other one");
+        Due.is("by code", x.run(true, plus), 1);
+        Due.is("by code, twice", x.run(true, plus), 1);
+        Due.is("its storage", x.bytes(true, 10, 2), "49 48");
+        Due.is("not the walk's", x.bytes(false, 10, 2), "48 53");
+
+        Due.sentence("6: made anew, and kept as by make()");
+        Due.is("its code", x.kept(), "1,0 0,5 3,0 9,0");
+        Due.is("another code", x.make(five), 1);
+        Due.is("a walk", x.run(false, plus), 1);
+        Due.is("a walk leaves the code", x.kept(), "0,5");
+        Due.is("by code, made anew", x.run(true, plus), 1);
+        Due.is("its code", x.kept(), "1,0 0,5 3,0 9,0");
+        Due.is("another one by code", x.run(true, five), 1);
+        Due.is("its code", x.kept(), "0,5");
+
+        Due.sentence("6: 1 it ended; 2 it was raised");
+        int byZero = x.node(6, five, x.number(0));
+        Due.is("a value, walked", x.run(false, five), 1);
+        Due.is("a value, by code", x.run(true, five), 1);
+        Due.is("by zero, walked", x.run(false, byZero), 2);
+        Due.is("by zero, by code", x.run(true, byZero), 2);
+        Due.is("a raised one's code", x.kept(), "0,5 0,0 6,0");
+        Due.is("ended behind raised, walked", x.run(false, plus), 1);
+        Due.is("ended behind raised, by code", x.run(true, plus), 1);
     }
 
-    private static void noPlace() {
-        promise = "6, no place";
-        ProcedureCode x = new ProcedureCode();
-        int most = node399(x);
-        int zero = number(x, 0);
-        int full = x.node(9, 0, most);
-        int over = x.node(11, full, x.node(9, 0, zero));
-        int byZero = x.node(6, zero, zero);
-        x.put(0, (byte) 49);
-        x.run(false, byZero);
-        x.run(true, byZero);
-        x.make(full);
-        due("a walk without place for its code", x.run(false, over), 0);
-        due("that walk leaves the code", x.code(399, 0), 9);
-        due("nothing was done", x.at(false, 0), 49);
-        due("by code", x.run(true, over), 0);
-        due("then there is no code", x.code(0, 0), -1);
-        due("nothing was done by code", x.at(true, 0), 49);
-        due("raised(false) stays", x.raised(false), 2);
-        due("raised(true) stays", x.raised(true), 2);
-        due("400 rows walked", x.run(false, full), 1);
-        due("200 ones", x.at(false, 0), 48);
-        due("400 rows by code", x.run(true, full), 1);
-        due("200 ones by code", x.at(true, 0), 48);
-    }
-
-    private static void subscripts() {
-        promise = "6, subscripts";
-        ProcedureCode x = new ProcedureCode();
-        x.cell(2, 9, 28);
-        x.cell(0, 3, 1);
-        int[] good = {-7, -1, 0, 1, 8};
-        int[] bad = {-8, 9, 10, 1 << 30, Integer.MIN_VALUE, Integer.MAX_VALUE};
-        for (int index : good) {
-            int i = number(x, index);
-            int root = x.node(10, 0, x.node(11, i, number(x, 100 + index)));
-            due("storing " + index + " behind", both(x, root), 1);
-            due("its place", x.at(false, 28 + 4 * index + 3), 100 + index);
-            due("reading " + index + " behind", both(x, x.node(9, 1, x.node(2, 0, i))), 1);
-            due("what was read", (x.at(false, 1) - 48) * 100 + (x.at(false, 2) - 48) * 10 + x.at(false, 3) - 48, 100 + index);
-        }
-        for (int index : bad) {
-            int i = number(x, index);
-            due("storing " + index + " behind", both(x, x.node(10, 0, x.node(11, i, i))), 2);
-            due("raised", x.raised(false), 1);
-            due("reading " + index + " behind", both(x, x.node(2, 0, i)), 2);
-            due("raised", x.raised(true), 1);
-        }
-        due("a cell's end outside", both(x, x.node(2, 1, number(x, 21))), 2);
-        due("a cell's end just inside", both(x, x.node(2, 1, number(x, 20))), 1);
-        due("a cell's start outside", both(x, x.node(2, 1, number(x, -1))), 2);
-        int far = x.node(5, number(x, 1 << 30), number(x, 1 << 30));
-        int round = x.node(5, far, number(x, 4));
-        due("far behind, round 64 bits to its place", both(x, x.node(2, 0, round)), 2);
-        due("raised", x.raised(true), 1);
-        due("farther behind, round 64 bits", both(x, x.node(2, 0, x.node(5, far, number(x, -4)))), 2);
-    }
-
-    private static void raising() {
-        promise = "6, what raises first";
-        ProcedureCode x = new ProcedureCode();
+    private static void notRun() {
+        Due.sentence("6: 0 when there is no such node");
+        Calls x = new Calls();
         x.cell(0, 1, 0);
-        x.cell(0, 1, 1);
-        int zero = number(x, 0);
-        int one = number(x, 1);
-        int byZero = x.node(6, one, zero);
-        int outside = x.node(2, 0, number(x, 64));
-        int[][] cases = {
-            {x.node(3, byZero, outside), 2}, {x.node(3, outside, byZero), 1},
-            {x.node(6, outside, zero), 1}, {x.node(6, byZero, outside), 2},
-            {x.node(10, 0, x.node(11, byZero, outside)), 2}, {x.node(10, 0, x.node(11, outside, byZero)), 1},
-            {x.node(10, 0, x.node(11, number(x, 64), byZero)), 2}, {x.node(2, 0, byZero), 2},
-            {x.node(9, 0, byZero), 2}, {x.node(12, byZero, outside), 2}, {x.node(13, byZero, outside), 2},
-            {x.node(12, one, outside), 1}, {x.node(13, one, byZero), 2}, {x.node(11, outside, byZero), 1}};
-        for (int[] c : cases) {
-            due("run of node " + c[0], both(x, c[0]), 2);
-            due("raised of node " + c[0], x.raised(true), c[1]);
+        int store = x.node(9, 0, x.number(1));
+        for (int root : new int[] {LEAST, -1, 0, 3, 4, 200, 201, MOST}) {
+            Due.is("run(false, " + root + ")", x.run(false, root), 0);
+            Due.is("run(true, " + root + ")", x.run(true, root), 0);
         }
-        due("12 not done", both(x, x.node(12, zero, byZero)), 1);
-        due("13 no times", both(x, x.node(13, zero, byZero)), 1);
-        due("13 below 0 times", both(x, x.node(13, number(x, -3), byZero)), 1);
-        due("12 of a number below 0", both(x, x.node(12, number(x, -3), byZero)), 2);
-        int kept = x.node(11, x.node(9, 0, one), x.node(11, byZero, x.node(9, 1, one)));
-        due("what was stored", both(x, kept), 2);
-        due("stays", bytes(x, false, 0, 2), "49 0");
-        due("a division by a cell of 0", both(x, x.node(6, one, x.node(1, 1, 0))), 2);
-        due("raised", x.raised(false), 2);
-    }
+        Due.is("nothing was done", x.bytesOnBoth(0, 1), "0");
+        Due.is("run(false, 1)", x.run(false, 1), 1);
+        Due.is("run(true, 1)", x.run(true, 1), 1);
+        Due.is("run(false, the last)", x.run(false, store), 1);
+        Due.is("run(true, the last)", x.run(true, store), 1);
+        Due.is("no such node by code", x.run(true, 3), 0);
+        Due.is("leaves the code, as make() does", x.kept(), "0,1 9,0");
 
-    private static int timesOf(ProcedureCode x, int times, int node) {
-        return x.node(13, number(x, times), node);
-    }
+        Due.sentence("6: 0 when there is no place for its code");
+        Calls y = new Calls();
+        y.cell(0, 1, 0);
+        y.cell(0, 1, 1);
+        int store398 = y.node(11, y.node(9, 1, y.number(1)), y.node(9, 0, y.valueOfRows(0, 395)));
+        int store400 = y.node(11, store398, y.node(9, 0, y.number(4)));
+        int store401 = y.node(11, store398, y.node(9, 0, y.node(2, 0, y.number(5))));
+        Due.is("398 rows", y.make(store398), 398);
+        Due.is("400 rows, walked", y.run(false, store400), 1);
+        Due.is("400 rows, by code", y.run(true, store400), 1);
+        Due.is("what they stored", y.bytesOnBoth(0, 2), "52 49");
+        y.put(0, 48);
+        y.put(1, 48);
+        int byZero = y.node(6, 1, y.number(0));
+        Due.is("raised ahead of it, walked", y.run(false, byZero), 2);
+        Due.is("raised ahead of it, by code", y.run(true, byZero), 2);
+        Due.is("401 rows, walked", y.run(false, store401), 0);
+        Due.is("a walk leaves the code", y.code(2, 0), 6);
+        Due.is("401 rows, by code", y.run(true, store401), 0);
 
-    private static void counting() {
-        promise = "6, counts";
-        ProcedureCode x = new ProcedureCode();
-        x.cell(2, 9, 0);
-        x.cell(0, 1, 4);
-        int one = number(x, 1);
-        int plus = x.node(9, 0, x.node(3, x.node(1, 0, 0), one));
-        due("1000 times a value", both(x, timesOf(x, 1000, one)), 1);
-        due("1001 times a value", both(x, timesOf(x, 1001, one)), 2);
-        due("raised", x.raised(false), 3);
-        due("500 times a storing", both(x, timesOf(x, 500, plus)), 1);
-        due("500", bytes(x, false, 0, 4), "0 0 1 -12");
-        due("raised", x.raised(true), 0);
-        due("501 times a storing", both(x, timesOf(x, 501, plus)), 2);
-        due("500 more", bytes(x, false, 0, 4), "0 0 3 -24");
-        due("counts are a run's own", both(x, plus), 1);
-        int fullLoop = timesOf(x, 1000, one);
-        int oddLoop = timesOf(x, 999, one);
-        due("a storing behind 999", both(x, x.node(11, oddLoop, plus)), 1);
-        due("1002", bytes(x, false, 0, 4), "0 0 3 -22");
-        due("a storing behind 1000", both(x, x.node(11, fullLoop, plus)), 2);
-        due("raised", x.raised(true), 3);
-        due("still 1002", bytes(x, false, 0, 4), "0 0 3 -22");
-        due("no count, no raise", both(x, x.node(11, fullLoop, timesOf(x, 0, one))), 1);
-        int far = x.node(10, 0, x.node(11, number(x, 99), one));
-        due("outside behind 1000", both(x, x.node(11, fullLoop, far)), 2);
-        due("1 ahead of 3", x.raised(false), 1);
-        int byZero = x.node(6, one, number(x, 0));
-        due("by zero to store, behind 1000", both(x, x.node(11, fullLoop, x.node(9, 0, byZero))), 2);
-        due("2 comes first", x.raised(true), 2);
-        due("by zero in a loop, behind 1000", both(x, x.node(11, fullLoop, timesOf(x, 1, byZero))), 2);
-        due("3 comes first", x.raised(true), 3);
-        due("loops in loops: 10 + 10 * 99", both(x, timesOf(x, 10, timesOf(x, 99, one))), 1);
-        due("loops in loops: 10 + 10 * 100", both(x, timesOf(x, 10, timesOf(x, 100, one))), 2);
-        due("the most times of all", both(x, timesOf(x, Integer.MAX_VALUE, one)), 2);
-        int setCell = x.node(9, 1, number(x, 3));
-        int takesCell = x.node(13, x.node(1, 1, 0), x.node(11, x.node(9, 1, number(x, 9)), plus));
-        due("times are asked once", both(x, x.node(11, setCell, takesCell)), 1);
-        due("1005", bytes(x, false, 0, 4), "0 0 3 -19");
+        Due.sentence("6: nothing was done; by code, make()'s answer counts");
+        Due.is("nothing was stored", y.bytesOnBoth(0, 2), "48 48");
+        Due.is("raised(false)", y.raised(false), 2);
+        Due.is("raised(true)", y.raised(true), 2);
+        Due.is("then there is no code", y.code(0, 0), -1);
+        Due.is("walked behind it", y.run(false, store400), 1);
+        Due.is("by code behind it", y.run(true, store400), 1);
     }
 
     /** As many steps as a run can need: a long node, as often as can be counted. */
-    private static void longest() {
-        promise = "6, the longest run";
-        ProcedureCode x = new ProcedureCode();
-        node399(x);
-        int body = x.node(3, 8, 7);
-        int loop = timesOf(x, 999, body);
-        due("rows of the loop", x.make(loop), 387);
-        due("the longest run", both(x, x.node(11, loop, x.node(9, 0, number(x, 7)))), 1);
-        due("what stands behind its loop", x.at(true, 0), 55);
+    private static void longestRuns() {
+        Due.sentence("6: the longest run ends");
+        Calls x = new Calls();
+        x.cell(0, 1, 0);
+        x.cell(0, 1, 1);
+        int loop = x.times(999, x.valueOfRows(0, 394));
+        int store = x.node(9, 1, x.number(7));
+        Due.is("rows", x.make(x.node(11, loop, store)), 400);
+        Due.is("999 times 394 rows, and a storing", x.both(x.node(11, loop, store)), 0);
+        Due.is("it was stored", x.byteOnBoth(1), 55);
+        Calls y = new Calls();
+        int shared = y.number(1);
+        for (int i = 0; i < 198; i++) {
+            shared = y.node(4 - i % 2, shared, shared);
+        }
+        Due.is("2 to the 198. numbers, folded", y.both(shared), 0);
     }
 
     /** Every node deeper than the one before: the deepest trees that 200 nodes can be. */
-    private static void deepTrees() {
-        promise = "6, depth";
-        for (int kind = 2; kind <= 13; kind++) {
-            if (kind == 9 || kind == 10) {
-                continue;
-            }
-            ProcedureCode x = new ProcedureCode();
+    private static void deepestTrees() {
+        Due.sentence("6: the deepest trees are run");
+        for (int kind : new int[] {2, 3, 4, 5, 6, 7, 8, 11, 12, 13}) {
+            Calls x = new Calls();
             x.cell(0, 1, 0);
-            int cell = x.node(1, 0, 0);
+            x.put(0, 48);
+            int cell = x.says(0);
             int node = x.node(kind, kind == 2 ? 0 : cell, cell);
-            while (node < 200) {
+            // The rows of 13 would be more than 400 before the nodes are 200.
+            int last = kind == 13 ? 100 : 200;
+            while (node < last) {
                 node = x.node(kind, kind == 2 ? 0 : cell, node);
             }
-            boolean fits = kind == 2 || kind == 12 || kind <= 8;
-            if (fits || kind == 11) {
-                due("depth of kind " + kind, both(x, node), kind == 6 ? 2 : 1);
-            } else {
-                due("no place for kind " + kind, x.make(node), -1);
-            }
+            Due.is("depth of kind " + kind, x.both(node), kind == 6 ? 2 : 0);
         }
-        ProcedureCode x = new ProcedureCode();
-        x.cell(0, 1, 0);
-        int node = x.node(9, 0, number(x, 1));
-        int one = number(x, 1);
+        Calls loops = new Calls();
+        loops.cell(0, 1, 0);
+        int one = loops.number(1);
+        int inner = loops.node(9, 0, one);
         for (int i = 0; i < 132; i++) {
-            node = x.node(13, one, node);
+            inner = loops.node(13, one, inner);
         }
-        due("132 loops within one another", both(x, node), 1);
-        due("stored within all", x.at(true, 0), 49);
-    }
-
-    /** The deepest values must come out of the deepest trees, not only end. */
-    private static void deepValues() {
-        promise = "6, depth of values";
-        ProcedureCode x = new ProcedureCode();
-        x.cell(2, 9, 0);
-        x.cell(0, 3, 4);
-        x.put(3, (byte) 1);
-        int cell = x.node(1, 0, 0);
+        Due.is("132 loops within one another", loops.both(inner), 0);
+        Due.is("stored within all", loops.byteOnBoth(0), 49);
+        Calls sums = new Calls();
+        sums.cell(0, 1, 0);
+        sums.cell(0, 3, 1);
+        sums.put(0, 49);
+        int cell = sums.says(0);
         int sum = cell;
         while (sum < 199) {
-            sum = x.node(3, cell, sum);
+            sum = sums.node(3, cell, sum);
         }
-        due("199 ones, the last first", both(x, x.node(9, 1, sum)), 1);
-        due("199", bytes(x, false, 4, 3), "49 57 57");
-        x = new ProcedureCode();
-        x.cell(0, 1, 0);
-        int one = number(x, 1);
-        int inner = x.node(9, 0, one);
-        while (inner < 200) {
-            inner = x.node(12, one, inner);
+        Due.is("199 ones, the last first", sums.both(sums.node(9, 1, sum)), 0);
+        Due.is("199", sums.bytesOnBoth(1, 3), "49 57 57");
+        Calls ifs = new Calls();
+        ifs.cell(0, 1, 0);
+        one = ifs.number(1);
+        int store = ifs.node(9, 0, one);
+        while (store < 200) {
+            store = ifs.node(12, one, store);
         }
-        due("a storing within 198 conditions", both(x, inner), 1);
-        due("stored", x.at(false, 0), 49);
+        Due.is("a storing within 198 conditions", ifs.both(store), 0);
+        Due.is("stored", ifs.byteOnBoth(0), 49);
     }
 
-    private static void atAndPut() {
-        promise = "7 and 8";
-        ProcedureCode x = new ProcedureCode();
-        int[] outside = {-1, 64, Integer.MIN_VALUE, Integer.MAX_VALUE};
-        for (int place : outside) {
-            due("at(false, " + place + ") throws", throwsOutside(x, false, place), true);
-            due("at(true, " + place + ") throws", throwsOutside(x, true, place), true);
-            due("put(" + place + ", 1)", x.put(place, (byte) 1), -4);
+    private static void whatRaisesFirst() {
+        Due.sentence("6: what raises first is what was raised");
+        Calls x = new Calls();
+        x.cell(0, 1, 0);
+        int one = x.number(1);
+        int byZero = x.node(6, one, x.number(0));
+        int outside = x.node(2, 0, x.number(64));
+        int endless = x.times(1001, one);
+        int[][] cases = {
+            {x.node(3, byZero, outside), 2}, {x.node(3, outside, byZero), 1}, {x.node(8, byZero, outside), 2},
+            {x.node(6, outside, x.number(0)), 1}, {x.node(6, byZero, outside), 2}, {x.node(2, 0, byZero), 2},
+            {x.node(9, 0, byZero), 2}, {x.node(9, 0, outside), 1}, {x.node(12, byZero, outside), 2},
+            {x.node(13, byZero, outside), 2}, {x.node(12, one, outside), 1}, {x.node(13, one, byZero), 2},
+            {x.node(11, outside, byZero), 1}, {x.node(11, byZero, outside), 2}, {x.node(11, endless, byZero), 3},
+            {x.node(11, outside, endless), 1}};
+        for (int[] c : cases) {
+            Due.is("raised of node " + c[0], x.both(c[0]), c[1]);
         }
-        due("nothing was put", bytes(x, false, 0, 64), bytes(new ProcedureCode(), true, 0, 64));
+    }
+
+    // ---- promises 7 and 8
+
+    private static void atPlaces() {
+        Due.sentence("7: a byte of a storage");
+        Calls x = new Calls();
         for (int place = 0; place < 64; place++) {
-            due("put(" + place + ")", x.put(place, (byte) (place * 4 - 128)), 1);
+            x.put(place, place * 4 - 128);
         }
         for (int place = 0; place < 64; place++) {
-            due("at(false, " + place + ")", x.at(false, place), place * 4 - 128);
-            due("at(true, " + place + ")", x.at(true, place), place * 4 - 128);
+            Due.is("at(false, " + place + ")", x.at(false, place), place * 4 - 128);
+            Due.is("at(true, " + place + ")", x.at(true, place), place * 4 - 128);
+        }
+        x.cell(0, 1, 63);
+        x.run(true, x.node(9, 0, x.number(2)));
+        Due.is("the code's", x.at(true, 63), 50);
+        Due.is("the walk's", x.at(false, 63), 124);
+
+        Due.sentence("7: ArrayIndexOutOfBoundsException outside");
+        for (int place : OUTSIDE) {
+            Due.is("at(false, " + place + ")", x.isOutside(false, place), true);
+            Due.is("at(true, " + place + ")", x.isOutside(true, place), true);
+        }
+        for (int place : new int[] {0, 1, 62, 63}) {
+            Due.is("at(false, " + place + ")", x.isOutside(false, place), false);
+            Due.is("at(true, " + place + ")", x.isOutside(true, place), false);
+        }
+    }
+
+    private static void puts() {
+        Due.sentence("8: a byte of both storages becomes b: 1");
+        Calls x = new Calls();
+        for (int place : new int[] {0, 1, 62, 63}) {
+            for (int b : new int[] {127, -128, -1, 0, 1}) {
+                Due.is("put(" + place + ", " + b + ")", x.put(place, b), 1);
+                Due.is("at " + place, x.byteOnBoth(place), b);
+            }
         }
         x.cell(0, 1, 3);
-        x.run(true, x.node(9, 0, number(x, 2)));
-        due("the code's byte", x.at(true, 3), 50);
-        due("the walk's byte", x.at(false, 3), -116);
-        due("both are put", x.put(3, (byte) 127), 1);
-        due("the code's byte", x.at(true, 3), 127);
-        due("the walk's byte", x.at(false, 3), 127);
+        x.run(true, x.node(9, 0, x.number(2)));
+        Due.is("where they are not alike", x.put(3, 99), 1);
+        Due.is("they become so", x.byteOnBoth(3), 99);
+
+        Due.sentence("8: -4 when place is outside");
+        Calls y = new Calls();
+        for (int place : OUTSIDE) {
+            Due.is("put(" + place + ", 1)", y.put(place, 1), -4);
+        }
+        Due.is("nothing was put", y.bytesOnBoth(0, 64), "0" + " 0".repeat(63));
     }
 
-    private static void fastOf(ProcedureCode x, int root, boolean want) {
-        int last = x.make(root) - 1;
-        due("fast(" + last + ") of node " + root, x.fast(last), want);
-        for (int i = 0; i < last; i++) {
-            int op = x.code(i, 0);
-            due("fast of a row of op " + op, x.fast(i) && (op < 3 || op > 6), false);
-        }
-    }
+    // ---- promises 9 and 10
 
     private static void fastRows() {
-        promise = "9";
-        ProcedureCode x = new ProcedureCode();
+        Due.sentence("9: whether row i of the code is fast");
+        Calls x = new Calls();
         x.cell(0, 9, 0);
-        x.cell(2, 1, 0);
-        x.cell(1, 8, 0);
-        int nine = x.node(1, 0, 0);
-        int binary = x.node(1, 1, 0);
-        int eight = x.node(1, 2, 0);
-        int zero = number(x, 0);
-        int eightteen = x.node(5, nine, nine);
-        int nineteen = x.node(5, binary, nine);
-        int seventeen = x.node(5, eight, nine);
-        fastOf(x, eightteen, true);
-        fastOf(x, nineteen, false);
-        fastOf(x, x.node(5, binary, eight), true);
-        fastOf(x, x.node(5, binary, binary), false);
-        fastOf(x, x.node(3, seventeen, eight), true);
-        fastOf(x, x.node(3, eight, seventeen), true);
-        fastOf(x, x.node(4, seventeen, seventeen), true);
-        fastOf(x, x.node(3, eightteen, zero), false);
-        fastOf(x, x.node(3, zero, eightteen), false);
-        fastOf(x, x.node(4, zero, eightteen), false);
-        fastOf(x, x.node(6, eightteen, nineteen), true);
-        fastOf(x, x.node(6, nineteen, zero), false);
-        fastOf(x, x.node(7, nine, nine), false);
-        fastOf(x, x.node(8, nine, nine), false);
-        fastOf(x, x.node(5, seventeen, x.node(7, nineteen, nineteen)), true);
-        fastOf(x, x.node(5, eightteen, x.node(8, nineteen, nineteen)), false);
-        fastOf(x, x.node(5, seventeen, zero), true);
-        fastOf(x, x.node(5, seventeen, number(x, -9)), true);
-        fastOf(x, x.node(5, seventeen, number(x, 10)), false);
-        fastOf(x, x.node(5, eight, number(x, Integer.MIN_VALUE)), true);
-        fastOf(x, x.node(5, nine, number(x, Integer.MIN_VALUE)), false);
-        fastOf(x, x.node(5, nine, number(x, 999999999)), true);
-        fastOf(x, x.node(5, nine, number(x, -1000000000)), false);
-        fastOf(x, x.node(5, nine, x.node(2, 0, zero)), true);
-        fastOf(x, x.node(5, nine, x.node(2, 1, zero)), false);
-        fastOf(x, x.node(3, number(x, 1), number(x, 1)), false);
-        fastOf(x, x.node(6, number(x, 1), zero), true);
-        int doubled = nine;
-        for (int i = 0; i < 7; i++) {
-            doubled = x.node(5, doubled, doubled);
+        x.cell(2, 9, 0);
+        int nine = x.says(0);
+        int ten = x.says(1);
+        int eighteen = x.node(5, nine, nine);
+        int nineteen = x.node(5, nine, ten);
+        int count = x.make(x.node(9, 0, x.node(4, eighteen, x.node(6, nineteen, nine))));
+        boolean[] want = {false, false, true, false, false, false, false, false, false, false};
+        Due.is("rows", count, want.length);
+        for (int i = 0; i < want.length; i++) {
+            Due.is("fast(" + i + ")", x.fast(i), want[i]);
         }
-        fastOf(x, doubled, false);
-        int manyDigits = number(x, 9);
-        for (int i = 0; i < 70; i++) {
-            manyDigits = x.node(5, manyDigits, manyDigits);
+        x.make(x.node(9, 0, x.node(3, nine, nine)));
+        Due.is("another code's sum", x.fast(2), true);
+        x.make(nineteen);
+        Due.is("another code's product", x.fast(2), false);
+
+        Due.sentence("9: a row that there is not is not fast");
+        x.make(eighteen);
+        Due.is("the last row", x.fast(2), true);
+        for (int i : new int[] {LEAST, -1, 3, 4, 399, 400, MOST}) {
+            Due.is("fast(" + i + ")", x.fast(i), false);
         }
-        fastOf(x, x.node(5, manyDigits, nine), false);
-        x.make(eightteen);
-        due("fast(2)", x.fast(2), true);
-        due("fast(0)", x.fast(0), false);
-        due("fast(-1)", x.fast(-1), false);
-        due("fast(3)", x.fast(3), false);
-        due("fast(MAX)", x.fast(Integer.MAX_VALUE), false);
-        x.make(x.node(9, 0, x.node(4, nineteen, eightteen)));
-        due("the wide product", x.fast(2), false);
-        due("the product within", x.fast(5), true);
-        due("the difference", x.fast(6), false);
+        x.make(nine);
+        Due.is("a row of the code before", x.fast(2), false);
+        Calls full = new Calls();
+        full.cell(0, 1, 0);
+        int sum = full.node(3, full.says(0), full.node(2, 0, full.valueOfRows(0, 397)));
+        Due.is("rows", full.make(sum), 400);
+        Due.is("fast(399) of 400", full.fast(399), true);
+        Due.is("fast(398) of 400, a cell's", full.fast(398), false);
+        Due.is("fast(400) of 400", full.fast(400), false);
     }
 
     private static void points() {
-        promise = "10";
-        ProcedureCode x = new ProcedureCode();
+        Due.sentence("10: the row of the i-th storing (9, 10) in the code, from 0 on");
+        Calls x = new Calls();
         x.cell(0, 1, 0);
-        int one = number(x, 1);
+        int one = x.number(1);
         int store = x.node(9, 0, one);
-        int behind = x.node(10, 0, x.node(11, one, one));
+        int behind = x.storeBehind(0, one, one);
         int root = x.node(11, store, x.node(12, one, x.node(11, behind, x.node(13, one, store))));
-        due("the rows", rows(x, root), "0,1 9,0 0,1 12,12 0,1 0,1 10,0 0,1 13,12 0,1 9,0 14,9");
-        due("point(0)", x.point(0), 1);
-        due("point(1)", x.point(1), 6);
-        due("point(2)", x.point(2), 10);
-        due("point(3)", x.point(3), -1);
-        due("point(-1)", x.point(-1), -1);
-        due("point(MAX)", x.point(Integer.MAX_VALUE), -1);
-        due("point(MIN)", x.point(Integer.MIN_VALUE), -1);
+        Due.is("the rows", x.rows(root), "0,1 9,0 0,1 12,12 0,1 0,1 10,0 0,1 13,12 0,1 9,0 14,9");
+        Due.is("point(0)", x.point(0), 1);
+        Due.is("point(1)", x.point(1), 6);
+        Due.is("point(2)", x.point(2), 10);
+
+        Due.sentence("10: NONE when there is none");
+        for (int i : new int[] {LEAST, -1, 3, 4, 12, 400, MOST}) {
+            Due.is("point(" + i + ")", x.point(i), -1);
+        }
         x.make(one);
-        due("a code without storings", x.point(0), -1);
+        Due.is("a code without storings", x.point(0), -1);
         x.make(store);
-        due("another code", x.point(0), 1);
-        due("no more in it", x.point(1), -1);
+        Due.is("another code's", x.point(0), 1);
+        Due.is("no more of it", x.point(1), -1);
+        Due.is("no code", new Calls().point(0), -1);
+
+        Due.sentence("10: as many storings as there can be");
+        Calls full = new Calls();
+        full.cell(0, 1, 0);
+        int[] doubled = new int[8];
+        doubled[0] = full.node(9, 0, full.number(1));
+        for (int i = 1; i < 8; i++) {
+            doubled[i] = full.node(11, doubled[i - 1], doubled[i - 1]);
+        }
+        int most = full.node(11, doubled[7], full.node(11, doubled[6], doubled[3]));
+        Due.is("rows of 200 storings", full.make(most), 400);
+        Due.is("point(0)", full.point(0), 1);
+        Due.is("point(198)", full.point(198), 397);
+        Due.is("point(199)", full.point(199), 399);
+        Due.is("point(200)", full.point(200), -1);
     }
+
+    // ---- promise 11
 
     private static void raisedOnes() {
-        promise = "11";
-        ProcedureCode x = new ProcedureCode();
+        Due.sentence("11: 0 when there was none");
+        Calls x = new Calls();
+        Due.is("raised(false)", x.raised(false), 0);
+        Due.is("raised(true)", x.raised(true), 0);
+
+        Due.sentence("11: what the latest run raised, of the walk or by code");
         x.cell(0, 1, 0);
-        int one = number(x, 1);
-        int byZero = x.node(6, one, number(x, 0));
-        int outside = x.node(2, 0, number(x, 64));
-        int endless = x.node(13, number(x, 1001), one);
+        int one = x.number(1);
+        int outside = x.node(2, 0, x.number(64));
+        int byZero = x.node(6, one, x.number(0));
+        int endless = x.node(13, x.number(1001), one);
+        int[] raising = {0, outside, byZero, endless};
+        for (int why = 1; why <= 3; why++) {
+            int other = why % 3 + 1;
+            x.run(false, raising[why]);
+            x.run(true, raising[other]);
+            Due.is("raised(false)", x.raised(false), why);
+            Due.is("raised(true)", x.raised(true), other);
+        }
         x.run(false, byZero);
-        due("raised(false)", x.raised(false), 2);
-        due("raised(true), not run", x.raised(true), 0);
-        x.run(true, outside);
-        due("raised(true)", x.raised(true), 1);
-        due("raised(false), not run again", x.raised(false), 2);
-        x.run(false, endless);
-        due("raised(false)", x.raised(false), 3);
-        due("make", x.make(one), 1);
-        due("raised(true) behind make", x.raised(true), 1);
-        due("no run", x.run(true, 99), 0);
-        due("raised(true) behind no run", x.raised(true), 1);
-        due("no run", x.run(false, 99), 0);
-        due("raised(false) behind no run", x.raised(false), 3);
+        Due.is("raised(false), walked again", x.raised(false), 2);
+        Due.is("raised(true), not run again", x.raised(true), 1);
+
+        Due.sentence("11: calls that run nothing leave it");
+        x.make(one);
+        x.put(0, 1);
+        Due.is("no such node", x.run(true, 99), 0);
+        Due.is("no such node", x.run(false, 99), 0);
+        x.same(endless);
+        x.same(one);
+        Due.is("raised(false)", x.raised(false), 2);
+        Due.is("raised(true)", x.raised(true), 1);
+
+        Due.sentence("11: 0 when it ended");
         x.run(true, one);
-        due("raised(true) behind one that ended", x.raised(true), 0);
+        Due.is("raised(true)", x.raised(true), 0);
+        Due.is("raised(false), not run", x.raised(false), 2);
         x.run(false, one);
-        due("raised(false) behind one that ended", x.raised(false), 0);
+        Due.is("raised(false)", x.raised(false), 0);
     }
 
+    // ---- promise 12
+
     private static void sameOnes() {
-        promise = "12";
-        ProcedureCode x = new ProcedureCode();
-        int most = node399(x);
-        int one = number(x, 1);
-        int plus = x.node(9, 0, x.node(3, 1, one));
-        int byZero = x.node(6, one, number(x, 0));
-        int outside = x.node(2, 0, number(x, 64));
-        int over = x.node(3, most, 1);
+        Due.sentence("12: would leave the same bytes, and raise the same");
+        Calls x = new Calls();
+        x.cell(0, 1, 0);
+        int one = x.number(1);
+        int plus = x.node(9, 0, x.node(3, x.says(0), one));
+        int byZero = x.node(6, one, x.number(0));
+        int outside = x.node(2, 0, x.number(64));
+        Due.is("a value", x.same(one), true);
+        Due.is("a storing", x.same(plus), true);
+        Due.is("outside", x.same(outside), true);
+        Due.is("by zero", x.same(byZero), true);
+        Due.is("too many counts", x.same(x.node(13, x.number(2000), plus)), true);
+        Due.is("stored, then raised", x.same(x.node(11, plus, outside)), true);
+
+        Due.sentence("12: both from the walk's storage as it is");
         x.run(false, plus);
         x.run(false, byZero);
         x.run(true, outside);
-        due("from the walk's storage", x.same(plus), true);
-        due("the code is that node's", kept(x), "1,0 0,1 3,0 9,0");
-        due("the walk's storage", x.at(false, 0), 49);
-        due("the code's storage", x.at(true, 0), 0);
-        due("raised(false)", x.raised(false), 2);
-        due("raised(true)", x.raised(true), 1);
-        due("by the walk's cell, not by the code's", x.same(x.node(6, one, 1)), true);
-        due("raised alike", x.same(byZero), true);
-        due("raised(false)", x.raised(false), 2);
-        due("raised(true)", x.raised(true), 1);
-        due("stored, then raised", x.same(x.node(11, plus, outside)), true);
-        due("a loop that counts too far", x.same(x.node(13, number(x, 2000), plus)), true);
-        due("raised(false)", x.raised(false), 2);
-        due("the walk's storage", x.at(false, 0), 49);
-        due("the code's storage", x.at(true, 0), 0);
-        due("a value", x.same(one), true);
-        due("no such node", x.same(0), false);
-        due("no such node", x.same(199), false);
-        due("the code stays", kept(x), "0,1");
-        due("no place", x.same(over), false);
-        due("then there is no code", kept(x), "");
-        due("400 rows", x.same(x.node(9, 0, most)), true);
+        Due.is("a storing", x.same(plus), true);
+        Due.is("by the walk's cell, which alone is not 0", x.same(x.node(6, one, x.says(0))), true);
+
+        Due.sentence("12: nothing changes");
+        Due.is("a storing", x.same(plus), true);
+        Due.is("the walk's storage", x.bytes(false, 0, 64), "49" + " 0".repeat(63));
+        Due.is("the code's storage", x.bytes(true, 0, 64), "0" + " 0".repeat(63));
+        Due.is("raised(false)", x.raised(false), 2);
+        Due.is("raised(true)", x.raised(true), 1);
+
+        Due.sentence("12: but the code is that node's");
+        Due.is("its code", x.kept(), "1,0 0,1 3,0 9,0");
+        Due.is("by zero", x.same(byZero), true);
+        Due.is("its code", x.kept(), "0,1 0,0 6,0");
+        sameOfNone();
+    }
+
+    private static void sameOfNone() {
+        Due.sentence("12: false when run() answers 0");
+        Calls x = new Calls();
+        x.cell(0, 1, 0);
+        int one = x.number(1);
+        int value399 = x.valueOfRows(0, 399);
+        int value400 = x.node(2, 0, value399);
+        int value401 = x.node(3, value399, one);
+        Due.is("399 rows", x.same(value399), true);
+        Due.is("400 rows", x.same(value400), true);
+        Due.is("401 rows", x.same(value401), false);
+        Due.is("then there is no code", x.code(0, 0), -1);
+        Due.is("one row", x.same(one), true);
+        for (int root : new int[] {LEAST, -1, 0, value401 + 1, 200, 201, MOST}) {
+            Due.is("same(" + root + ")", x.same(root), false);
+        }
+        Due.is("no such node leaves the code", x.kept(), "0,1");
+        Due.is("raised(false)", x.raised(false), 0);
+        Due.is("raised(true)", x.raised(true), 0);
+    }
+
+    /** The 512th call is the last one that is promised. */
+    private static void lastCall() {
+        Due.sentence("an object is used for at most 512 calls");
+        Calls x = new Calls();
+        x.cell(0, 1, 0);
+        int plus = x.node(9, 0, x.node(3, x.says(0), x.number(1)));
+        while (x.left() > 4) {
+            Due.is("a call", x.run(true, plus), 1);
+        }
+        Due.is("the 509th", x.at(true, 0), 51);
+        Due.is("the 510th", x.run(true, plus), 1);
+        Due.is("the 511th", x.number(1), 5);
+        Due.is("the 512th", x.at(true, 0), 52);
     }
 
     public static void main(String[] args) {
         newObject();
         cells();
         nodes();
+        nodesOfNoCell();
+        nodesOfNoNode();
+        nodesOfStatements();
+        tooManyNodes();
         making();
         readingRows();
-        storing();
-        loading();
         running();
-        noPlace();
-        subscripts();
-        raising();
-        counting();
-        longest();
-        deepTrees();
-        deepValues();
-        atAndPut();
+        notRun();
+        longestRuns();
+        deepestTrees();
+        whatRaisesFirst();
+        atPlaces();
+        puts();
         fastRows();
         points();
         raisedOnes();
         sameOnes();
-        System.out.println(wrong == 0 ? "all promises hold" : wrong + " answers are not as due");
-        if (wrong != 0) {
-            System.exit(1);
-        }
+        lastCall();
+        Due.end();
     }
 }
