@@ -136,13 +136,13 @@ final class Calls {
         return text.toString();
     }
 
-    /** Whether at() throws just what the document names. */
-    boolean isOutside(boolean code, int place) {
+    /** What at() throws, by its name; nothing when it answers. */
+    String thrownAt(boolean code, int place) {
         try {
             at(code, place);
-            return false;
-        } catch (ArrayIndexOutOfBoundsException e) {
-            return e.getClass() == ArrayIndexOutOfBoundsException.class;
+            return "";
+        } catch (RuntimeException e) {
+            return e.getClass().getSimpleName();
         }
     }
 

@@ -1,10 +1,17 @@
 /** Counts the answers that are not as due, and tells each one under the sentence that it breaks. */
 final class Due {
     private static final int TOLD_AT_MOST = 40;
+    private static final long MILLIS_AT_MOST = 300000;
 
-    private static String sentence = "";
+    private static volatile String sentence = "";
     private static int asked = 0;
     private static int wrong = 0;
+
+    static {
+        Thread watch = new Thread(Due::stopWhatNeverEnds);
+        watch.setDaemon(true);
+        watch.start();
+    }
 
     private Due() {
     }
@@ -50,6 +57,17 @@ final class Due {
         if (wrong != 0) {
             System.exit(1);
         }
+    }
+
+    /** A call that does not end is an answer that is not as due, too. */
+    private static void stopWhatNeverEnds() {
+        try {
+            Thread.sleep(MILLIS_AT_MOST);
+        } catch (InterruptedException e) {
+            return;
+        }
+        System.out.println(sentence + ": a call does not end");
+        Runtime.getRuntime().halt(1);
     }
 
     private static void tell(String text) {

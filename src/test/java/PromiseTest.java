@@ -215,19 +215,20 @@ public final class PromiseTest {
 
     private static void nodesOfStatements() {
         Due.sentence("3: -2 for 10, b is not of kind 11");
-        Calls x = someNodes();
-        int[] others = {1, 2, x.says(0), x.node(12, 1, 2), x.node(13, 1, 2), x.storeBehind(0, 1, 1)};
-        for (int b : others) {
-            node(x, 10, 0, b, -2);
+        for (int kind = 0; kind <= 13; kind++) {
+            // By each kind a node both of whose numbers would do for sides of an 11.
+            Calls y = someNodes();
+            node(y, kind, 1, kind == 10 ? 3 : 1, 7);
+            node(y, 10, 0, 7, kind == 11 ? 8 : -2);
         }
-        node(x, 10, 0, 3, 12);
+        Calls x = someNodes();
+        int[] statements = {2, 3, x.node(12, 1, 2), x.node(13, 1, 2), x.storeBehind(0, 1, 1)};
 
         Due.sentence("3: -2 a statement where a value is taken, of 10's b");
         node(x, 10, 0, 4, -2);
         node(x, 10, 0, 5, -2);
         node(x, 10, 0, 6, -2);
 
-        int[] statements = {2, 3, others[3], others[4], others[5]};
         for (int s : statements) {
             Due.sentence("3: -2 a statement where a value is taken, b of 2, 9");
             node(x, 2, 0, s, -2);
@@ -243,9 +244,9 @@ public final class PromiseTest {
         }
 
         Due.sentence("3: a refused node takes no number");
-        node(x, 0, 1, 1, 13);
+        node(x, 0, 1, 1, 11);
         Due.sentence("3: statements are free on both sides of 11, and as b of 12, 13");
-        int next = 14;
+        int next = 12;
         for (int s : statements) {
             node(x, 11, s, s, next);
             node(x, 12, 1, s, next + 1);
@@ -437,11 +438,13 @@ public final class PromiseTest {
         int byZero = x.node(6, five, x.number(0));
         Due.is("a value, walked", x.run(false, five), 1);
         Due.is("a value, by code", x.run(true, five), 1);
-        Due.is("by zero, walked", x.run(false, byZero), 2);
-        Due.is("by zero, by code", x.run(true, byZero), 2);
+        Due.is("by zero, by code, behind a walk that ended", x.run(true, byZero), 2);
         Due.is("a raised one's code", x.kept(), "0,5 0,0 6,0");
+        Due.is("a value, walked, behind a code that was raised", x.run(false, five), 1);
+        Due.is("by zero, walked", x.run(false, byZero), 2);
+        Due.is("a value, by code, behind a walk that was raised", x.run(true, five), 1);
+        Due.is("by zero, walked, behind a code that ended", x.run(false, byZero), 2);
         Due.is("ended behind raised, walked", x.run(false, plus), 1);
-        Due.is("ended behind raised, by code", x.run(true, plus), 1);
     }
 
     private static void notRun() {
@@ -595,12 +598,12 @@ public final class PromiseTest {
 
         Due.sentence("7: ArrayIndexOutOfBoundsException outside");
         for (int place : OUTSIDE) {
-            Due.is("at(false, " + place + ")", x.isOutside(false, place), true);
-            Due.is("at(true, " + place + ")", x.isOutside(true, place), true);
+            Due.is("at(false, " + place + ")", x.thrownAt(false, place), "ArrayIndexOutOfBoundsException");
+            Due.is("at(true, " + place + ")", x.thrownAt(true, place), "ArrayIndexOutOfBoundsException");
         }
         for (int place : new int[] {0, 1, 62, 63}) {
-            Due.is("at(false, " + place + ")", x.isOutside(false, place), false);
-            Due.is("at(true, " + place + ")", x.isOutside(true, place), false);
+            Due.is("at(false, " + place + ")", x.thrownAt(false, place), "");
+            Due.is("at(true, " + place + ")", x.thrownAt(true, place), "");
         }
     }
 

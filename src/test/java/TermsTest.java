@@ -20,10 +20,10 @@ public final class TermsTest {
         Due.sentence("two storages of 64 bytes");
         Calls x = new Calls();
         for (boolean code : new boolean[] {false, true}) {
-            Due.is("-1 is outside", x.isOutside(code, -1), true);
-            Due.is("0 is inside", x.isOutside(code, 0), false);
-            Due.is("63 is inside", x.isOutside(code, 63), false);
-            Due.is("64 is outside", x.isOutside(code, 64), true);
+            Due.is("-1 is outside", x.thrownAt(code, -1), "ArrayIndexOutOfBoundsException");
+            Due.is("0 is inside", x.thrownAt(code, 0), "");
+            Due.is("63 is inside", x.thrownAt(code, 63), "");
+            Due.is("64 is outside", x.thrownAt(code, 64), "ArrayIndexOutOfBoundsException");
         }
         int store = x.node(9, x.cell(ZONED, 1, 63), x.number(7));
         x.run(false, store);
