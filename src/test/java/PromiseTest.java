@@ -512,6 +512,26 @@ public final class PromiseTest {
         Due.is("2 to the 198. numbers, folded", y.both(shared), 0);
     }
 
+    /** Values that runs end with, or were raised amid, must not pile up. */
+    private static void manyRuns() {
+        Due.sentence("6: a run leaves nothing for the next one but its storage");
+        for (int ending = 0; ending < 3; ending++) {
+            Calls x = new Calls();
+            x.cell(0, 1, 0);
+            int one = x.number(1);
+            int sum = x.node(3, x.says(0), one);
+            int byZero = x.node(3, sum, x.node(6, one, x.number(0)));
+            int root = ending == 0 ? one : ending == 1 ? byZero : x.times(2, byZero);
+            while (x.left() > 60) {
+                Due.is("a run by code", x.run(true, root), ending == 0 ? 1 : 2);
+            }
+            Due.is("a storing behind them", x.both(x.node(9, 0, sum)), 0);
+            Due.is("it was stored", x.byteOnBoth(0), 49);
+            Due.is("a loop behind them", x.both(x.times(3, x.node(9, 0, sum))), 0);
+            Due.is("it was done three times", x.byteOnBoth(0), 52);
+        }
+    }
+
     /** Every node deeper than the one before: the deepest trees that 200 nodes can be. */
     private static void deepestTrees() {
         Due.sentence("6: the deepest trees are run");
@@ -839,6 +859,7 @@ public final class PromiseTest {
         running();
         notRun();
         longestRuns();
+        manyRuns();
         deepestTrees();
         whatRaisesFirst();
         atPlaces();
