@@ -249,11 +249,16 @@ public final class ProcedureCode {
         }
 
         private static long lowestDigits(long number, int digitCount) {
-            long power = 1;
+            long kept = 0;
+            long rest = number;
+            long unit = 1;
+            // Each digit has the number's sign, so what is kept of them has it, too.
             for (int i = 0; i < digitCount && i < MAX_CELL_DIGITS; i++) {
-                power *= 10;
+                kept += rest % 10 * unit;
+                rest /= 10;
+                unit *= 10;
             }
-            return number % power;
+            return kept;
         }
 
         private static boolean isInside(byte[] bytes, int place, int size) {
